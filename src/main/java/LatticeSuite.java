@@ -9,6 +9,7 @@ import java.util.Arrays;
 public final class LatticeSuite {
     private static final int LIMIT = 65536;
     private static final int FED = 20;
+    private static final int MOST_INT = 0x7fffffff;
 
     private static final int SLOTS = 8;
     private static final int RANDOM = 0;
@@ -232,8 +233,12 @@ public final class LatticeSuite {
         checkState(slots[RANDOM].size == slh.n || slots[RANDOM].size == 0);
         checkSupported(slots[SECRET].size == 4 * slh.n);
         signed.make(how);
-        slh.sign(slots[SECRET].bytes, slots[RANDOM], signed, slots[PACKET]);
-        return slots[PACKET].size;
+        Bytes packet = slots[PACKET];
+        slh.startSign(slots[SECRET].bytes, slots[RANDOM], signed, packet.bytes);
+        slh.signForest(packet.bytes);
+        slh.signTrees(packet.bytes);
+        packet.size = slh.packetSize();
+        return packet.size;
     }
 
     public boolean slhVerify(int set, int how)
@@ -255,11 +260,11 @@ public final class LatticeSuite {
         checkRange(set, 0, 11);
         slh.choose(set);
         checkRange(layer, 0, slh.layers - 1);
-        checkRange(tree, 0, Integer.MAX_VALUE);
+        checkRange(tree, 0, MOST_INT);
         checkRange(z, 0, slh.height);
         checkRange(i, 0, (1 << (slh.height - z)) - 1);
         checkSupported(slots[SECRET].size == 4 * slh.n);
-        slh.open(slots[SECRET].bytes);
+        slh.takeSeeds(slots[SECRET].bytes);
         slh.place(layer, tree);
         slh.node(Slh.TREE, 0, z, i, slots[SHARED].bytes, 0);
         slots[SHARED].size = slh.n;
@@ -426,18 +431,17 @@ public final class LatticeSuite {
             bringState();
         }
 
-        /** The padding of the SHA-2 family, with the total in the last bytes of the last block. */
-        void padWithTotal(int totalSize) {
+        /** Pads as the SHA-2 family does; whether the block has room for the total, too. */
+        boolean closeBlock(int totalSize) {
             block[filled] = (byte) 128;
             Arrays.fill(block, filled + 1, rate, (byte) 0);
-            if (filled + 1 + totalSize > rate) {
-                takeBlock();
-                Arrays.fill(block, 0, rate, (byte) 0);
-            }
+            return filled + 1 + totalSize <= rate;
+        }
+
+        void putTotal() {
             long bits = 8 * total;
             Bits.putInt((int) (bits >>> 32), block, rate - 8);
             Bits.putInt((int) bits, block, rate - 4);
-            takeBlock();
         }
     }
 
@@ -456,7 +460,6 @@ public final class LatticeSuite {
         private final long[] turned = new long[25];
         private final long[] marked = new long[25];
         private int suffix;
-        private int spent;
 
         Sponge() {
             super(168);
@@ -489,28 +492,27 @@ public final class LatticeSuite {
             permute();
         }
 
+        /** Answers the first n bytes; goOn gives what follows a whole block. */
         void finish(byte[] to, int at, int n) {
-            pad();
-            squeeze(to, at, n);
-        }
-
-        /** Ends the input; then squeeze gives the output piece by piece. */
-        void pad() {
             block[filled] = (byte) suffix;
             Arrays.fill(block, filled + 1, rate, (byte) 0);
             block[rate - 1] ^= (byte) 128;
             takeBlock();
-            spent = 0;
+            give(to, at, Math.min(n, rate));
+            for (int done = rate; done < n; done += rate) {
+                permute();
+                give(to, at + done, Math.min(n - done, rate));
+            }
         }
 
-        void squeeze(byte[] to, int at, int n) {
-            for (int i = at; i < at + n; i++) {
-                if (spent == rate) {
-                    permute();
-                    spent = 0;
-                }
-                to[i] = (byte) (lanes[spent >> 3] >>> ((spent & 7) << 3));
-                spent++;
+        void goOn(byte[] to) {
+            permute();
+            give(to, 0, rate);
+        }
+
+        private void give(byte[] to, int at, int n) {
+            for (int i = 0; i < n; i++) {
+                to[at + i] = (byte) (lanes[i >> 3] >>> ((i & 7) << 3));
             }
         }
 
@@ -571,38 +573,6 @@ public final class LatticeSuite {
         }
     }
 
-    /** The first 64 bits behind the point of the square roots of the first 16 primes. */
-    private static final long[] SQUARE_ROOTS = {
-        0x6a09e667f3bcc908L, 0xbb67ae8584caa73bL, 0x3c6ef372fe94f82bL, 0xa54ff53a5f1d36f1L,
-        0x510e527fade682d1L, 0x9b05688c2b3e6c1fL, 0x1f83d9abfb41bd6bL, 0x5be0cd19137e2179L,
-        0xcbbb9d5dc1059ed8L, 0x629a292a367cd507L, 0x9159015a3070dd17L, 0x152fecd8f70e5939L,
-        0x67332667ffc00b31L, 0x8eb44a8768581511L, 0xdb0c2e0d64f98fa7L, 0x47b5481dbefa4fa4L,
-    };
-
-    /** The same of the cube roots of the first 80 primes. */
-    private static final long[] CUBE_ROOTS = {
-        0x428a2f98d728ae22L, 0x7137449123ef65cdL, 0xb5c0fbcfec4d3b2fL, 0xe9b5dba58189dbbcL,
-        0x3956c25bf348b538L, 0x59f111f1b605d019L, 0x923f82a4af194f9bL, 0xab1c5ed5da6d8118L,
-        0xd807aa98a3030242L, 0x12835b0145706fbeL, 0x243185be4ee4b28cL, 0x550c7dc3d5ffb4e2L,
-        0x72be5d74f27b896fL, 0x80deb1fe3b1696b1L, 0x9bdc06a725c71235L, 0xc19bf174cf692694L,
-        0xe49b69c19ef14ad2L, 0xefbe4786384f25e3L, 0x0fc19dc68b8cd5b5L, 0x240ca1cc77ac9c65L,
-        0x2de92c6f592b0275L, 0x4a7484aa6ea6e483L, 0x5cb0a9dcbd41fbd4L, 0x76f988da831153b5L,
-        0x983e5152ee66dfabL, 0xa831c66d2db43210L, 0xb00327c898fb213fL, 0xbf597fc7beef0ee4L,
-        0xc6e00bf33da88fc2L, 0xd5a79147930aa725L, 0x06ca6351e003826fL, 0x142929670a0e6e70L,
-        0x27b70a8546d22ffcL, 0x2e1b21385c26c926L, 0x4d2c6dfc5ac42aedL, 0x53380d139d95b3dfL,
-        0x650a73548baf63deL, 0x766a0abb3c77b2a8L, 0x81c2c92e47edaee6L, 0x92722c851482353bL,
-        0xa2bfe8a14cf10364L, 0xa81a664bbc423001L, 0xc24b8b70d0f89791L, 0xc76c51a30654be30L,
-        0xd192e819d6ef5218L, 0xd69906245565a910L, 0xf40e35855771202aL, 0x106aa07032bbd1b8L,
-        0x19a4c116b8d2d0c8L, 0x1e376c085141ab53L, 0x2748774cdf8eeb99L, 0x34b0bcb5e19b48a8L,
-        0x391c0cb3c5c95a63L, 0x4ed8aa4ae3418acbL, 0x5b9cca4f7763e373L, 0x682e6ff3d6b2b8a3L,
-        0x748f82ee5defb2fcL, 0x78a5636f43172f60L, 0x84c87814a1f0ab72L, 0x8cc702081a6439ecL,
-        0x90befffa23631e28L, 0xa4506cebde82bde9L, 0xbef9a3f7b2c67915L, 0xc67178f2e372532bL,
-        0xca273eceea26619cL, 0xd186b8c721c0c207L, 0xeada7dd6cde0eb1eL, 0xf57d4f7fee6ed178L,
-        0x06f067aa72176fbaL, 0x0a637dc5a2c898a6L, 0x113f9804bef90daeL, 0x1b710b35131c471bL,
-        0x28db77f523047d84L, 0x32caab7b40c72493L, 0x3c9ebe0a15c9bebcL, 0x431d67c49c100d4cL,
-        0x4cc5d4becb3e42b6L, 0x597f299cfc657e2aL, 0x5fcb6fab3ad6faecL, 0x6c44198c4a475817L,
-    };
-
     /** SHA-256 and SHA-224: their constants are halves of those of the hashes of 64 bits. */
     private static final class Sha256 extends Hash {
         private final int[] state = new int[8];
@@ -615,7 +585,8 @@ public final class LatticeSuite {
 
         void start(int kind) {
             for (int i = 0; i < 8; i++) {
-                state[i] = kind == SHA_224 ? (int) SQUARE_ROOTS[8 + i] : (int) (SQUARE_ROOTS[i] >>> 32);
+                long root = Sha512.SQUARE_ROOTS[kind == SHA_224 ? 8 + i : i];
+                state[i] = (int) (kind == SHA_224 ? root : root >>> 32);
             }
             empty();
         }
@@ -629,13 +600,18 @@ public final class LatticeSuite {
         }
 
         void finish(byte[] to, int at, int n) {
-            padWithTotal(8);
+            if (!closeBlock(8)) {
+                takeBlock();
+                Arrays.fill(block, (byte) 0);
+            }
+            putTotal();
+            takeBlock();
             for (int i = 0; i < n; i++) {
                 to[at + i] = (byte) (state[i >> 2] >>> (24 - ((i & 3) << 3)));
             }
         }
 
-        private void spreadWords() {
+        void takeBlock() {
             int[] w = words;
             for (int t = 0, i = 0; t < 16; t++, i += 4) {
                 w[t] = block[i] << 24 | (block[i + 1] & 255) << 16
@@ -647,10 +623,6 @@ public final class LatticeSuite {
                 w[t] = (Integer.rotateRight(x, 17) ^ Integer.rotateRight(x, 19) ^ x >>> 10) + w[t - 7]
                         + (Integer.rotateRight(y, 7) ^ Integer.rotateRight(y, 18) ^ y >>> 3) + w[t - 16];
             }
-        }
-
-        void takeBlock() {
-            spreadWords();
             int a = state[0];
             int b = state[1];
             int c = state[2];
@@ -660,12 +632,10 @@ public final class LatticeSuite {
             int g = state[6];
             int h = state[7];
             for (int t = 0; t < 64; t++) {
-                int first = h
-                        + (Integer.rotateRight(e, 6) ^ Integer.rotateRight(e, 11) ^ Integer.rotateRight(e, 25))
-                        + (e & f ^ ~e & g) + (int) (CUBE_ROOTS[t] >>> 32) + words[t];
-                int second =
-                        (Integer.rotateRight(a, 2) ^ Integer.rotateRight(a, 13) ^ Integer.rotateRight(a, 22))
-                        + (a & b ^ a & c ^ b & c);
+                int first = h + (e & f ^ ~e & g) + (int) (Sha512.CUBE_ROOTS[t] >>> 32) + w[t]
+                        + (Integer.rotateRight(e, 6) ^ Integer.rotateRight(e, 11) ^ Integer.rotateRight(e, 25));
+                int second = (a & b ^ a & c ^ b & c)
+                        + (Integer.rotateRight(a, 2) ^ Integer.rotateRight(a, 13) ^ Integer.rotateRight(a, 22));
                 h = g;
                 g = f;
                 f = e;
@@ -688,6 +658,38 @@ public final class LatticeSuite {
 
     /** SHA-512, SHA-384, SHA-512/224 and SHA-512/256. */
     private static final class Sha512 extends Hash {
+        /** The first 64 bits behind the point of the square roots of the first 16 primes. */
+        static final long[] SQUARE_ROOTS = {
+            0x6a09e667f3bcc908L, 0xbb67ae8584caa73bL, 0x3c6ef372fe94f82bL, 0xa54ff53a5f1d36f1L,
+            0x510e527fade682d1L, 0x9b05688c2b3e6c1fL, 0x1f83d9abfb41bd6bL, 0x5be0cd19137e2179L,
+            0xcbbb9d5dc1059ed8L, 0x629a292a367cd507L, 0x9159015a3070dd17L, 0x152fecd8f70e5939L,
+            0x67332667ffc00b31L, 0x8eb44a8768581511L, 0xdb0c2e0d64f98fa7L, 0x47b5481dbefa4fa4L,
+        };
+
+        /** The same of the cube roots of the first 80 primes. */
+        static final long[] CUBE_ROOTS = {
+            0x428a2f98d728ae22L, 0x7137449123ef65cdL, 0xb5c0fbcfec4d3b2fL, 0xe9b5dba58189dbbcL,
+            0x3956c25bf348b538L, 0x59f111f1b605d019L, 0x923f82a4af194f9bL, 0xab1c5ed5da6d8118L,
+            0xd807aa98a3030242L, 0x12835b0145706fbeL, 0x243185be4ee4b28cL, 0x550c7dc3d5ffb4e2L,
+            0x72be5d74f27b896fL, 0x80deb1fe3b1696b1L, 0x9bdc06a725c71235L, 0xc19bf174cf692694L,
+            0xe49b69c19ef14ad2L, 0xefbe4786384f25e3L, 0x0fc19dc68b8cd5b5L, 0x240ca1cc77ac9c65L,
+            0x2de92c6f592b0275L, 0x4a7484aa6ea6e483L, 0x5cb0a9dcbd41fbd4L, 0x76f988da831153b5L,
+            0x983e5152ee66dfabL, 0xa831c66d2db43210L, 0xb00327c898fb213fL, 0xbf597fc7beef0ee4L,
+            0xc6e00bf33da88fc2L, 0xd5a79147930aa725L, 0x06ca6351e003826fL, 0x142929670a0e6e70L,
+            0x27b70a8546d22ffcL, 0x2e1b21385c26c926L, 0x4d2c6dfc5ac42aedL, 0x53380d139d95b3dfL,
+            0x650a73548baf63deL, 0x766a0abb3c77b2a8L, 0x81c2c92e47edaee6L, 0x92722c851482353bL,
+            0xa2bfe8a14cf10364L, 0xa81a664bbc423001L, 0xc24b8b70d0f89791L, 0xc76c51a30654be30L,
+            0xd192e819d6ef5218L, 0xd69906245565a910L, 0xf40e35855771202aL, 0x106aa07032bbd1b8L,
+            0x19a4c116b8d2d0c8L, 0x1e376c085141ab53L, 0x2748774cdf8eeb99L, 0x34b0bcb5e19b48a8L,
+            0x391c0cb3c5c95a63L, 0x4ed8aa4ae3418acbL, 0x5b9cca4f7763e373L, 0x682e6ff3d6b2b8a3L,
+            0x748f82ee5defb2fcL, 0x78a5636f43172f60L, 0x84c87814a1f0ab72L, 0x8cc702081a6439ecL,
+            0x90befffa23631e28L, 0xa4506cebde82bde9L, 0xbef9a3f7b2c67915L, 0xc67178f2e372532bL,
+            0xca273eceea26619cL, 0xd186b8c721c0c207L, 0xeada7dd6cde0eb1eL, 0xf57d4f7fee6ed178L,
+            0x06f067aa72176fbaL, 0x0a637dc5a2c898a6L, 0x113f9804bef90daeL, 0x1b710b35131c471bL,
+            0x28db77f523047d84L, 0x32caab7b40c72493L, 0x3c9ebe0a15c9bebcL, 0x431d67c49c100d4cL,
+            0x4cc5d4becb3e42b6L, 0x597f299cfc657e2aL, 0x5fcb6fab3ad6faecL, 0x6c44198c4a475817L,
+        };
+
         private static final long[] START_224 = {
             0x8c3d37c819544da2L, 0x73e1996689dcd4d6L, 0x1dfab7ae32ff9c82L, 0x679dd514582f9fcfL,
             0x0f6d2b697bd44da8L, 0x77e36f7304c48942L, 0x3f9d85a86a1d36c8L, 0x1112e6ad91d692a1L,
@@ -725,13 +727,18 @@ public final class LatticeSuite {
         }
 
         void finish(byte[] to, int at, int n) {
-            padWithTotal(16);
+            if (!closeBlock(16)) {
+                takeBlock();
+                Arrays.fill(block, (byte) 0);
+            }
+            putTotal();
+            takeBlock();
             for (int i = 0; i < n; i++) {
                 to[at + i] = (byte) (state[i >> 3] >>> (56 - ((i & 7) << 3)));
             }
         }
 
-        private void spreadWords() {
+        void takeBlock() {
             long[] w = words;
             for (int t = 0; t < 16; t++) {
                 long v = 0;
@@ -746,10 +753,6 @@ public final class LatticeSuite {
                 w[t] = (Long.rotateRight(x, 19) ^ Long.rotateRight(x, 61) ^ x >>> 6) + w[t - 7]
                         + (Long.rotateRight(y, 1) ^ Long.rotateRight(y, 8) ^ y >>> 7) + w[t - 16];
             }
-        }
-
-        void takeBlock() {
-            spreadWords();
             long a = state[0];
             long b = state[1];
             long c = state[2];
@@ -759,11 +762,10 @@ public final class LatticeSuite {
             long g = state[6];
             long h = state[7];
             for (int t = 0; t < 80; t++) {
-                long first = h
-                        + (Long.rotateRight(e, 14) ^ Long.rotateRight(e, 18) ^ Long.rotateRight(e, 41))
-                        + (e & f ^ ~e & g) + CUBE_ROOTS[t] + words[t];
-                long second = (Long.rotateRight(a, 28) ^ Long.rotateRight(a, 34) ^ Long.rotateRight(a, 39))
-                        + (a & b ^ a & c ^ b & c);
+                long first = h + (e & f ^ ~e & g) + CUBE_ROOTS[t] + w[t]
+                        + (Long.rotateRight(e, 14) ^ Long.rotateRight(e, 18) ^ Long.rotateRight(e, 41));
+                long second = (a & b ^ a & c ^ b & c)
+                        + (Long.rotateRight(a, 28) ^ Long.rotateRight(a, 34) ^ Long.rotateRight(a, 39));
                 h = g;
                 g = f;
                 f = e;
@@ -990,7 +992,7 @@ public final class LatticeSuite {
             return Bits.alike(plain, 0, it.bytes, 768 * k + 32, 32);
         }
 
-        void keys(byte[] random, Bytes open, Bytes secret) {
+        void keys(byte[] random, Bytes publicKey, Bytes secret) {
             System.arraycopy(random, 0, input, 0, 32);
             input[32] = (byte) k;
             hashPair(input, 33, input, 0, 0);
@@ -1007,20 +1009,20 @@ public final class LatticeSuite {
                     addProduct(matrix[i * k + j], vector[j]);
                 }
                 reduce(sum);
-                Bits.pack(sum, 12, open.bytes, 384 * i);
+                Bits.pack(sum, 12, publicKey.bytes, 384 * i);
             }
-            System.arraycopy(pair, 0, open.bytes, 384 * k, 32);
-            open.size = publicSize();
-            System.arraycopy(open.bytes, 0, secret.bytes, 384 * k, open.size);
-            hashPublic(open.bytes, 0, secret.bytes, 768 * k + 32);
+            System.arraycopy(pair, 0, publicKey.bytes, 384 * k, 32);
+            publicKey.size = publicSize();
+            System.arraycopy(publicKey.bytes, 0, secret.bytes, 384 * k, publicKey.size);
+            hashPublic(publicKey.bytes, 0, secret.bytes, 768 * k + 32);
             System.arraycopy(random, 32, secret.bytes, 768 * k + 64, 32);
             secret.size = 768 * k + 96;
         }
 
-        void wrap(byte[] open, byte[] random, Bytes packet, Bytes shared) {
-            hashPublic(open, 0, input, 0);
+        void wrap(byte[] publicKey, byte[] random, Bytes packet, Bytes shared) {
+            hashPublic(publicKey, 0, input, 0);
             hashPair(random, 32, input, 0, 32);
-            encrypt(open, 0, random);
+            encrypt(publicKey, 0, random);
             packet.become(cipher, packetSize());
             shared.become(pair, 32);
         }
@@ -1043,8 +1045,8 @@ public final class LatticeSuite {
         }
 
         /** Leaves the ciphertext in `cipher`; its random bytes are the second half of `pair`. */
-        private void encrypt(byte[] open, int at, byte[] text) {
-            expand(open, at + 384 * k);
+        private void encrypt(byte[] publicKey, int at, byte[] text) {
+            expand(publicKey, at + 384 * k);
             for (int i = 0; i < k; i++) {
                 noise(vector[i], i, eta);
                 toPairs(vector[i]);
@@ -1058,7 +1060,7 @@ public final class LatticeSuite {
             }
             Arrays.fill(sum, 0);
             for (int j = 0; j < k; j++) {
-                Bits.unpack(open, at + 384 * j, 12, other);
+                Bits.unpack(publicKey, at + 384 * j, 12, other);
                 addProduct(other, vector[j]);
             }
             finishPart(2 * k, dv, 32 * du * k, text);
@@ -1105,9 +1107,9 @@ public final class LatticeSuite {
             return (2 * Q * y + (1 << d)) >> d + 1;
         }
 
-        private void hashPublic(byte[] open, int at, byte[] to, int toAt) {
+        private void hashPublic(byte[] publicKey, int at, byte[] to, int toAt) {
             Hash hash = hashes.start(SHA3_256);
-            hash.add(open, at, publicSize());
+            hash.add(publicKey, at, publicSize());
             hash.finish(to, toAt, 32);
         }
 
@@ -1134,12 +1136,12 @@ public final class LatticeSuite {
             Sponge sponge = hashes.sponge;
             sponge.start(SHAKE_128);
             sponge.add(input, 0, 34);
-            sponge.pad();
+            sponge.finish(row, 0, 3 * TRIPLES_A_BLOCK);
             int have = 0;
             for (int t = 0; t < MOST_TRIPLES && have < 256; t++) {
                 int at = t % TRIPLES_A_BLOCK * 3;
-                if (at == 0) {
-                    sponge.squeeze(row, 0, 3 * TRIPLES_A_BLOCK);
+                if (at == 0 && t > 0) {
+                    sponge.goOn(row);
                 }
                 int middle = row[at + 1] & 255;
                 int first = (row[at] & 255) + 256 * (middle % 16);
@@ -1250,8 +1252,8 @@ public final class LatticeSuite {
         private final Hashes hashes;
         private final int[] zetas = new int[256];
         private final int[][] matrix = new int[56][256];
-        private final int[][] s = new int[7][256];
-        private final int[][] e = new int[8][256];
+        /** S, and E behind it. */
+        private final int[][] small = new int[15][256];
         private final int[][] t = new int[8][256];
         private final int[][] y = new int[7][256];
         private final int[][] points = new int[7][256];
@@ -1312,32 +1314,32 @@ public final class LatticeSuite {
             return TAUS[set] * ETAS[set];
         }
 
-        void keys(byte[] random, Bytes open, Bytes secret) {
+        void keys(byte[] random, Bytes publicKey, Bytes secret) {
             expandSeeds(random);
             expand(seeds, 0);
-            for (int i = 0; i < l; i++) {
-                small(s[i], i);
+            for (int i = 0; i < l + k; i++) {
+                sampleSmall(small[i], i);
             }
-            for (int i = 0; i < k; i++) {
-                small(e[i], l + i);
-            }
-            System.arraycopy(seeds, 0, open.bytes, 0, 32);
+            System.arraycopy(seeds, 0, publicKey.bytes, 0, 32);
             System.arraycopy(seeds, 0, secret.bytes, 0, 32);
             System.arraycopy(seeds, 96, secret.bytes, 32, 32);
-            int at = packAll(s, l, secret.bytes, 128);
-            at = packAll(e, k, secret.bytes, at);
+            int at = 128;
+            for (int i = 0; i < l + k; i++) {
+                packFrom(ETAS[set], small[i], smallBits(), secret.bytes, at);
+                at += 32 * smallBits();
+            }
             for (int i = 0; i < l; i++) {
-                toPoints(s[i]);
+                toPoints(small[i]);
             }
             for (int i = 0; i < k; i++) {
-                multiplyRow(i, s, t[i]);
+                multiplyRow(i, small, t[i]);
                 fromPoints(t[i]);
-                splitTop(i, open.bytes);
+                splitTop(i, publicKey.bytes);
                 packFrom(1 << DROPPED - 1, f, DROPPED, secret.bytes, at);
                 at += 32 * DROPPED;
             }
-            open.size = publicSize();
-            hash(open.bytes, 0, open.size, secret.bytes, 64);
+            publicKey.size = publicSize();
+            hash(publicKey.bytes, 0, publicKey.size, secret.bytes, 64);
             secret.size = secretSize();
         }
 
@@ -1350,25 +1352,16 @@ public final class LatticeSuite {
             hash.finish(seeds, 0, 128);
         }
 
-        private int packAll(int[][] v, int n, byte[] to, int at) {
-            int next = at;
-            for (int i = 0; i < n; i++) {
-                packFrom(ETAS[set], v[i], smallBits(), to, next);
-                next += 32 * smallBits();
-            }
-            return next;
-        }
-
         /** Puts the high part of T i into the public key and leaves the low part in f. */
-        private void splitTop(int i, byte[] open) {
+        private void splitTop(int i, byte[] publicKey) {
             int half = 1 << DROPPED - 1;
             for (int c = 0; c < 256; c++) {
-                int v = Math.floorMod(t[i][c] + e[i][c], Q);
+                int v = Math.floorMod(t[i][c] + small[l + i][c], Q);
                 int high = (v + half - 1) >> DROPPED;
                 f[c] = v - (high << DROPPED);
                 t[i][c] = high;
             }
-            Bits.pack(t[i], 10, open, 32 + 320 * i);
+            Bits.pack(t[i], 10, publicKey, 32 + 320 * i);
         }
 
         /** SHAKE256 of n bytes, to 64. */
@@ -1412,23 +1405,17 @@ public final class LatticeSuite {
         }
 
         private void openSecret(byte[] secret) {
-            int at = openAll(s, l, secret, 128);
-            at = openAll(e, k, secret, at);
+            int at = 128;
+            for (int i = 0; i < l + k; i++) {
+                unpackFrom(ETAS[set], secret, at, smallBits(), small[i]);
+                toPoints(small[i]);
+                at += 32 * smallBits();
+            }
             for (int i = 0; i < k; i++) {
                 unpackFrom(1 << DROPPED - 1, secret, at, DROPPED, t[i]);
                 toPoints(t[i]);
                 at += 32 * DROPPED;
             }
-        }
-
-        private int openAll(int[][] v, int n, byte[] from, int at) {
-            int next = at;
-            for (int i = 0; i < n; i++) {
-                unpackFrom(ETAS[set], from, next, smallBits(), v[i]);
-                toPoints(v[i]);
-                next += 32 * smallBits();
-            }
-            return next;
         }
 
         /** Whether a try with masks from this number on comes through; then y, mark and hints hold it. */
@@ -1485,7 +1472,7 @@ public final class LatticeSuite {
         private boolean finishMasks() {
             int most = GAMMAS_1[set] - bound();
             for (int i = 0; i < l; i++) {
-                multiplyBall(s[i]);
+                multiplyBall(small[i]);
                 for (int c = 0; c < 256; c++) {
                     y[i][c] += f[c];
                     if (Math.abs(y[i][c]) >= most) {
@@ -1499,7 +1486,7 @@ public final class LatticeSuite {
         private boolean lowsAreSmall() {
             int most = GAMMAS_2[set] - bound();
             for (int i = 0; i < k; i++) {
-                multiplyBall(e[i]);
+                multiplyBall(small[l + i]);
                 for (int c = 0; c < 256; c++) {
                     w[i][c] = Math.floorMod(w[i][c] - f[c], Q);
                     if (Math.abs(low(w[i][c])) >= most) {
@@ -1585,17 +1572,17 @@ public final class LatticeSuite {
         }
 
         /** Of a packet that takesPacket has found good. */
-        boolean verify(byte[] open, Signed x, byte[] packet, Bytes shared) {
-            expand(open, 0);
+        boolean verify(byte[] publicKey, Signed x, byte[] packet, Bytes shared) {
+            expand(publicKey, 0);
             fillBall(packet);
             toPoints(ball);
-            hash(open, 0, publicSize(), seeds, 0);
+            hash(publicKey, 0, publicSize(), seeds, 0);
             hashSigned(seeds, 0, x);
             for (int i = 0; i < l; i++) {
                 toPoints(y[i]);
             }
             for (int i = 0; i < k; i++) {
-                recover(i, open);
+                recover(i, publicKey);
             }
             applyHints(packet);
             Hash hash = hashes.start(SHAKE_256);
@@ -1610,8 +1597,8 @@ public final class LatticeSuite {
         }
 
         /** w[i] becomes X i of the verification. */
-        private void recover(int i, byte[] open) {
-            Bits.unpack(open, 32 + 320 * i, 10, f);
+        private void recover(int i, byte[] publicKey) {
+            Bits.unpack(publicKey, 32 + 320 * i, 10, f);
             for (int c = 0; c < 256; c++) {
                 f[c] <<= DROPPED;
             }
@@ -1690,12 +1677,12 @@ public final class LatticeSuite {
             Sponge sponge = hashes.sponge;
             sponge.start(SHAKE_128);
             sponge.add(input, 0, 34);
-            sponge.pad();
+            sponge.finish(row, 0, 3 * TRIPLES_A_BLOCK);
             int have = 0;
             for (int i = 0; i < MOST_TRIPLES && have < 256; i++) {
                 int at = i % TRIPLES_A_BLOCK * 3;
-                if (at == 0) {
-                    sponge.squeeze(row, 0, 3 * TRIPLES_A_BLOCK);
+                if (at == 0 && i > 0) {
+                    sponge.goOn(row);
                 }
                 int v = (row[at] & 255) + 256 * (row[at + 1] & 255) + 65536 * (row[at + 2] & 127);
                 if (v < Q) {
@@ -1707,21 +1694,20 @@ public final class LatticeSuite {
             }
         }
 
-        private void small(int[] to, int number) {
+        private void sampleSmall(int[] to, int number) {
             System.arraycopy(seeds, 32, input, 0, 64);
             input[64] = (byte) number;
             input[65] = (byte) (number >> 8);
             Sponge sponge = hashes.sponge;
             sponge.start(SHAKE_256);
             sponge.add(input, 0, 66);
-            sponge.pad();
+            sponge.finish(row, 0, BLOCK_256);
             int have = 0;
             for (int i = 0; i < 2 * MOST_SMALL && have < 256; i++) {
-                int at = i / 2 % BLOCK_256;
-                if (at == 0 && i % 2 == 0) {
-                    sponge.squeeze(row, 0, BLOCK_256);
+                if (i % (2 * BLOCK_256) == 0 && i > 0) {
+                    sponge.goOn(row);
                 }
-                int v = row[at] >> 4 * (i % 2) & 15;
+                int v = row[i / 2 % BLOCK_256] >> 4 * (i % 2) & 15;
                 if (v < (ETAS[set] == 2 ? 15 : 9)) {
                     to[have++] = ETAS[set] == 2 ? 2 - v % 5 : 4 - v;
                 }
@@ -1753,11 +1739,11 @@ public final class LatticeSuite {
 
         private void multiplyRow(int i, int[][] v, int[] to) {
             for (int c = 0; c < 256; c++) {
-                long v0 = 0;
+                long sum = 0;
                 for (int j = 0; j < l; j++) {
-                    v0 += (long) matrix[i * l + j][c] * v[j][c];
+                    sum += (long) matrix[i * l + j][c] * v[j][c];
                 }
-                to[c] = (int) (v0 % Q);
+                to[c] = (int) (sum % Q);
             }
         }
 
@@ -1866,27 +1852,46 @@ public final class LatticeSuite {
             return n * (chains + height);
         }
 
-        void keys(byte[] random, Bytes open, Bytes secret) {
+        void keys(byte[] random, Bytes publicKey, Bytes secret) {
             System.arraycopy(random, 0, secret.bytes, 0, 3 * n);
-            open(secret.bytes);
+            takeSeeds(secret.bytes);
             place(layers - 1, 0);
             node(TREE, 0, height, 0, secret.bytes, 3 * n);
             secret.size = 4 * n;
-            System.arraycopy(secret.bytes, 2 * n, open.bytes, 0, 2 * n);
-            open.size = 2 * n;
+            System.arraycopy(secret.bytes, 2 * n, publicKey.bytes, 0, 2 * n);
+            publicKey.size = 2 * n;
         }
 
-        void sign(byte[] secret, Bytes random, Signed x, Bytes packet) {
-            byte[] to = packet.bytes;
+        /** The first of three steps of a signature: its random bytes, and the places that they choose. */
+        void startSign(byte[] secret, Bytes random, Signed x, byte[] to) {
             boolean none = random.size == 0;
             randomize(secret, none ? secret : random.bytes, none ? 2 * n : 0, x, to);
             choosePlaces(to, secret, 2 * n, x);
-            open(secret);
+            takeSeeds(secret);
+        }
+
+        /** The second step; the value becomes the root of the forest. */
+        void signForest(byte[] to) {
+            int pair = chosenLeaf();
+            int at = n;
+            place(0, chosenTree());
+            for (int j = 0; j < forestTrees; j++) {
+                int leaf = chosenForestLeaf(j);
+                name(FOREST_SECRET, pair, 0, leaf);
+                hash(secretSeed, 0, n, to, at);
+                at += n;
+                for (int z = 0; z < forestHeight; z++) {
+                    node(FOREST, pair, z, leaf >> z ^ 1, to, at);
+                    at += n;
+                }
+            }
+            forestRoot(pair, to, n);
+        }
+
+        /** The third step: each tree signs the value, which becomes the root of that tree. */
+        void signTrees(byte[] to) {
             long tree = chosenTree();
             int leaf = chosenLeaf();
-            place(0, tree);
-            signForest(leaf, to, n);
-            forestRoot(leaf, to, n);
             int at = n + forestSize();
             for (int layer = 0; layer < layers; layer++) {
                 place(layer, tree);
@@ -1899,13 +1904,12 @@ public final class LatticeSuite {
                 tree >>>= height;
                 at += layerSize();
             }
-            packet.size = packetSize();
         }
 
         /** Of a packet of the due size. */
-        boolean verify(byte[] open, Signed x, byte[] packet, Bytes shared) {
-            choosePlaces(packet, open, 0, x);
-            takePublicSeed(open, 0);
+        boolean verify(byte[] publicKey, Signed x, byte[] packet, Bytes shared) {
+            choosePlaces(packet, publicKey, 0, x);
+            takePublicSeed(publicKey, 0);
             long tree = chosenTree();
             int leaf = chosenLeaf();
             place(0, tree);
@@ -1919,10 +1923,10 @@ public final class LatticeSuite {
                 at += layerSize();
             }
             shared.become(value, n);
-            return Bits.alike(value, 0, open, n, n);
+            return Bits.alike(value, 0, publicKey, n, n);
         }
 
-        void open(byte[] secret) {
+        void takeSeeds(byte[] secret) {
             System.arraycopy(secret, 0, secretSeed, 0, n);
             takePublicSeed(secret, 2 * n);
         }
@@ -2116,20 +2120,6 @@ public final class LatticeSuite {
             name(ENDS, pair, 0, 0);
             hash(rows, 0, chains * n, value, 0);
             climb(TREE, 0, pair, height, from, at + chains * n);
-        }
-
-        private void signForest(int pair, byte[] to, int at) {
-            int next = at;
-            for (int j = 0; j < forestTrees; j++) {
-                int leaf = chosenForestLeaf(j);
-                name(FOREST_SECRET, pair, 0, leaf);
-                hash(secretSeed, 0, n, to, next);
-                next += n;
-                for (int z = 0; z < forestHeight; z++) {
-                    node(FOREST, pair, z, leaf >> z ^ 1, to, next);
-                    next += n;
-                }
-            }
         }
 
         /** The value becomes FROOT. */
