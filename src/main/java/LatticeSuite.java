@@ -1240,14 +1240,14 @@ public final class LatticeSuite {
         private static final int MOST_TRIES = 814;
         private static final int BLOCK_256 = 136;
 
-        private static final int[] HIGHS = {4, 6, 8};
-        private static final int[] WIDTHS = {4, 5, 7};
+        private static final int[] ROWS = {4, 6, 8};
+        private static final int[] COLUMNS = {4, 5, 7};
         private static final int[] ETAS = {2, 4, 2};
         private static final int[] TAUS = {39, 49, 60};
         private static final int[] GAMMAS_1 = {1 << 17, 1 << 19, 1 << 19};
         private static final int[] GAMMAS_2 = {(Q - 1) / 88, (Q - 1) / 32, (Q - 1) / 32};
         private static final int[] OMEGAS = {80, 55, 75};
-        private static final int[] MARKS = {32, 48, 64};
+        private static final int[] CHALLENGE_SIZES = {32, 48, 64};
 
         private final Hashes hashes;
         private final int[] zetas = new int[256];
@@ -1265,7 +1265,7 @@ public final class LatticeSuite {
         private final byte[] seeds = new byte[128];
         private final byte[] input = new byte[66];
         private final byte[] mu = new byte[64];
-        private final byte[] mark = new byte[64];
+        private final byte[] challenge = new byte[64];
         private final byte[] hints = new byte[84];
         private int set;
         private int k;
@@ -1282,8 +1282,8 @@ public final class LatticeSuite {
 
         void choose(int chosen) {
             set = chosen;
-            k = HIGHS[chosen];
-            l = WIDTHS[chosen];
+            k = ROWS[chosen];
+            l = COLUMNS[chosen];
         }
 
         int publicSize() {
@@ -1295,7 +1295,7 @@ public final class LatticeSuite {
         }
 
         private int packetSize() {
-            return MARKS[set] + l * 32 * maskBits() + OMEGAS[set] + k;
+            return CHALLENGE_SIZES[set] + l * 32 * maskBits() + OMEGAS[set] + k;
         }
 
         private int smallBits() {
@@ -1393,7 +1393,7 @@ public final class LatticeSuite {
             throw new ArithmeticException("no try gave a signature");
         }
 
-        /** Leaves the seed of the masks in `input`, where a number is put behind it for each mask. */
+        /** Leaves the seed of the masks in `seeds`; no RANDOM stands for zeros. */
         private void startMasks(byte[] secret, Bytes random) {
             Arrays.fill(row, 0, 32, (byte) 0);
             System.arraycopy(random.bytes, 0, row, 0, Math.min(random.size, 32));
@@ -1418,7 +1418,7 @@ public final class LatticeSuite {
             }
         }
 
-        /** Whether a try with masks from this number on comes through; then y, mark and hints hold it. */
+        /** Whether a try with masks from this number on comes through; its y, challenge and hints stay. */
         private boolean attempt(int number) {
             for (int i = 0; i < l; i++) {
                 fillMask(y[i], number + i);
@@ -1434,8 +1434,8 @@ public final class LatticeSuite {
             for (int i = 0; i < k; i++) {
                 addHighs(hash, w[i]);
             }
-            hash.finish(mark, 0, MARKS[set]);
-            fillBall(mark);
+            hash.finish(challenge, 0, CHALLENGE_SIZES[set]);
+            fillBall(challenge);
             toPoints(ball);
             return finishMasks() && lowsAreSmall() && makeHints();
         }
@@ -1520,8 +1520,8 @@ public final class LatticeSuite {
         }
 
         private void writePacket(Bytes packet) {
-            int at = MARKS[set];
-            System.arraycopy(mark, 0, packet.bytes, 0, at);
+            int at = CHALLENGE_SIZES[set];
+            System.arraycopy(challenge, 0, packet.bytes, 0, at);
             for (int i = 0; i < l; i++) {
                 packFrom(GAMMAS_1[set], y[i], maskBits(), packet.bytes, at);
                 at += 32 * maskBits();
@@ -1536,8 +1536,9 @@ public final class LatticeSuite {
                 return false;
             }
             int most = GAMMAS_1[set] - bound();
+            int bits = maskBits();
             for (int i = 0; i < l; i++) {
-                unpackFrom(GAMMAS_1[set], packet.bytes, MARKS[set] + 32 * maskBits() * i, maskBits(), y[i]);
+                unpackFrom(GAMMAS_1[set], packet.bytes, CHALLENGE_SIZES[set] + 32 * bits * i, bits, y[i]);
                 for (int c = 0; c < 256; c++) {
                     if (Math.abs(y[i][c]) >= most) {
                         return false;
@@ -1591,7 +1592,7 @@ public final class LatticeSuite {
                 Bits.pack(w[i], highBits(), row, 0);
                 hash.add(row, 0, 32 * highBits());
             }
-            shared.size = MARKS[set];
+            shared.size = CHALLENGE_SIZES[set];
             hash.finish(shared.bytes, 0, shared.size);
             return Bits.alike(shared.bytes, 0, packet, 0, shared.size);
         }
@@ -1629,6 +1630,7 @@ public final class LatticeSuite {
             }
         }
 
+        /** LOW of a number in 0 .. q - 1. */
         private int low(int r) {
             int half = GAMMAS_2[set];
             int v = r % (2 * half);
@@ -1719,7 +1721,7 @@ public final class LatticeSuite {
 
         private void fillBall(byte[] from) {
             Hash hash = hashes.start(SHAKE_256);
-            hash.add(from, 0, MARKS[set]);
+            hash.add(from, 0, CHALLENGE_SIZES[set]);
             hash.finish(row, 0, 8 + MOST_BALL);
             Arrays.fill(ball, 0);
             int i = 256 - TAUS[set];
