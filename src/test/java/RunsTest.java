@@ -8,9 +8,9 @@ import java.util.HashMap;
 import java.util.Map;
 
 /**
- * Runs of calls with their answers, from src/test/runs. Another program gave the answers: it was written
- * from the document, too, but in another language, with its hash functions from a library, each transform
- * as the sum that the document tells, and each tree by recursion.
+ * Runs of calls with their answers, from src/test/runs. Another program of the same author gave the
+ * answers: it was written from the document, too, but in Python, with most hash functions from its library,
+ * each transform as the sum that the document tells, and each tree by recursion.
  */
 public final class RunsTest {
     private static final int MOST_CALLS = 512;
