@@ -1,4 +1,9 @@
+import java.io.IOException;
+import java.nio.file.Files;
+import java.nio.file.Path;
+import java.util.ArrayList;
 import java.util.Arrays;
+import java.util.List;
 
 /** What the tests have in common: counting what is not as due, and bytes in and out of an object. */
 final class Check {
@@ -11,14 +16,22 @@ final class Check {
     static final int SHARED = 6;
     static final int SPARE = 7;
 
+    static final int FULL = 65536;
+
     static final Class<?> ARGUMENT = IllegalArgumentException.class;
     static final Class<?> STATE = IllegalStateException.class;
     static final Class<?> INDEX = IndexOutOfBoundsException.class;
     static final Class<?> UNSUPPORTED = UnsupportedOperationException.class;
     static final Class<?> ARITHMETIC = ArithmeticException.class;
 
+    private static final Path DOCUMENT = Path.of("../shared/DOC.md");
+    /** A slot of more bytes is looked at here and there, as a run has but 512 calls. */
+    private static final int MOST_READ = 512;
+
     private static int checks;
     private static int wrong;
+    private static String words = "";
+    private static List<String> document;
 
     interface Call {
         void run();
@@ -31,11 +44,37 @@ final class Check {
     private Check() {
     }
 
+    /** The checks that follow are for these words, which stand below that heading of the document. */
+    static void says(String heading, String quoted) {
+        words = heading + ", '" + quoted + "': ";
+        holds("the document says so", section(heading).contains(quoted));
+    }
+
+    private static String section(String heading) {
+        try {
+            if (document == null) {
+                document = Files.readAllLines(DOCUMENT);
+            }
+        } catch (IOException e) {
+            document = new ArrayList<>();
+        }
+        StringBuilder text = new StringBuilder();
+        boolean inside = false;
+        for (String line : document) {
+            if (line.startsWith("## ")) {
+                inside = line.equals("## " + heading) || line.startsWith("## " + heading + ":");
+            } else if (inside) {
+                text.append(line).append('\n');
+            }
+        }
+        return text.toString();
+    }
+
     static void due(String what, Object got, Object want) {
         checks++;
         if (!got.equals(want)) {
             wrong++;
-            System.out.println(what + " answered " + got + ", due is " + want);
+            System.out.println(words + what + " answered " + got + ", due is " + want);
         }
     }
 
@@ -49,6 +88,16 @@ final class Check {
 
     static void bytes(String what, byte[] got, byte[] want) {
         due(what, hex(got), hex(want));
+    }
+
+    /** That a slot holds these bytes; if they are many, MESSAGE and SHARED are other ones afterwards. */
+    static void slotIs(String what, LatticeSuite x, int slot, byte[] want) {
+        due(what + ", its length", x.length(slot), want.length);
+        if (want.length <= MOST_READ) {
+            bytes(what, get(x, slot), want);
+        } else {
+            due(what + ", its hash", hashOf(x, slot), hex(Plain.sha("SHA-256", want)));
+        }
     }
 
     /** That the call throws just this exception. */
@@ -88,12 +137,30 @@ final class Check {
         return it;
     }
 
+    /** Other bytes in each slot and on the tape, none of them of a length that any call but digest takes. */
+    static void fill(LatticeSuite x) {
+        for (int slot = 0; slot < 8; slot++) {
+            put(x, slot, some(20 + slot, 41 + 2 * slot));
+        }
+        x.feed(11, 12, 13, 14, 15);
+        x.feed(21, 22, 23, 24, 25);
+    }
+
     static void put(LatticeSuite x, int slot, byte[] it) {
         byte[] whole = Arrays.copyOf(it, (it.length + 19) / 20 * 20);
         for (int i = 0; i < whole.length; i += 20) {
             x.feed(at(whole, i), at(whole, i + 4), at(whole, i + 8), at(whole, i + 12), at(whole, i + 16));
         }
         x.end(slot, it.length);
+    }
+
+    /** Bytes without a pattern, as many as there may be, by few calls; MESSAGE and SHARED are other ones then. */
+    static byte[] putMany(LatticeSuite x, int slot, int seed, int n) {
+        byte[] from = some(seed, 20);
+        put(x, MESSAGE, from);
+        x.digest(11, n);
+        x.copy(SHARED, slot);
+        return Plain.shake128(from, n);
     }
 
     private static int at(byte[] it, int i) {
@@ -119,24 +186,34 @@ final class Check {
     }
 
     /** All that an object holds; it is of no use afterwards. */
-    private static String picture(LatticeSuite x) {
-        StringBuilder it = new StringBuilder();
+    static String picture(LatticeSuite x) {
+        return String.join(" ", pictures(x));
+    }
+
+    /** What each slot holds and, behind them, what the tape does; the object is of no use afterwards. */
+    static String[] pictures(LatticeSuite x) {
+        String[] all = new String[9];
         for (int slot = 0; slot < 8; slot++) {
-            it.append(x.length(slot)).append(' ');
+            all[slot] = x.length(slot) + ":";
         }
-        it.append(x.feed(0, 0, 0, 0, 0)).append(' ');
-        it.append(hex(get(x, RANDOM))).append(' ');
-        it.append(hex(get(x, SHARED))).append(' ');
-        for (int slot : new int[] {MESSAGE, PUBLIC, SECRET, CONTEXT, PACKET, SPARE}) {
-            it.append(hashOf(x, slot)).append(' ');
+        int size = x.length(SHARED);
+        int step = size <= MOST_READ ? 8 : size / 64;
+        for (int i = 0; i < size; i += step) {
+            all[SHARED] += x.word(SHARED, i) + ",";
         }
-        return it.toString();
+        for (int slot : new int[] {MESSAGE, RANDOM, PUBLIC, SECRET, CONTEXT, PACKET, SPARE}) {
+            all[slot] += hashOf(x, slot);
+        }
+        int taped = x.feed(0, 0, 0, 0, 0);
+        x.end(SPARE, taped);
+        all[8] = taped + ":" + hashOf(x, SPARE);
+        return all;
     }
 
     static String hex(byte[] it) {
         StringBuilder text = new StringBuilder();
         for (byte b : it) {
-            text.append(String.format("%02x", b));
+            text.append(Character.forDigit(b >> 4 & 15, 16)).append(Character.forDigit(b & 15, 16));
         }
         return text.toString();
     }

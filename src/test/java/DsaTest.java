@@ -1,249 +1,322 @@
-import java.util.Arrays;
-import java.util.Random;
-
-/** Promises 14 to 16: the signatures over modules. Their bytes are due to src/test/runs/dsa.txt. */
+/**
+ * Promises 14 to 16: the keys of the signatures over modules, what is signed, and what is refused, sentence by
+ * sentence. The edges of SIGN and VERIFY stand in DsaSignTest and DsaVerifyTest, ordinary bytes in runs/dsa.txt.
+ */
 public final class DsaTest {
-    private static final int[] PUBLIC_SIZES = {1312, 1952, 2592};
-    private static final int[] SECRET_SIZES = {2560, 4032, 4896};
-    private static final int[] PACKET_SIZES = {2420, 3309, 4627};
-    private static final int[] HASHES = {32, 48, 64};
-    private static final int[] HINTS = {80, 55, 75};
-    private static final int[] POLYNOMIALS = {4, 6, 8};
+    private static final int FULL = Check.FULL;
+    private static final int[] WRONG_SETS = {-1, 3, Integer.MIN_VALUE, Integer.MAX_VALUE};
+    private static final int[] WRONG_HOWS = {-2, 13, Integer.MIN_VALUE, Integer.MAX_VALUE};
+    private static final int[] WRONG_RANDOMS = {1, 31, 33, 64, FULL};
+    private static final int[] WRONG_CONTEXTS = {256, 257, FULL};
+
+    private final int set;
+    private final PlainDsa plain;
+
+    private DsaTest(int set) {
+        this.set = set;
+        plain = new PlainDsa(set);
+    }
 
     public static void main(String[] args) {
         for (int set = 0; set < 3; set++) {
-            wholeWay(set);
-            changes(set);
-            withoutRandom(set);
-            contexts(set);
-            wrongKeysCalls(set);
-            wrongSigns(set);
-            wrongVerifies(set);
-            hintsOutOfOrder(set);
+            DsaTest it = new DsaTest(set);
+            it.keysOfRandom();
+            it.lowPartsAtTheirEnds();
+            it.keysOfOtherSizes();
+            it.signatures();
+            it.contexts();
+            it.contextsOfNoWeight();
+            it.messages();
+            it.withoutRandom();
+            it.signsWithOtherContexts();
+            it.signsWithOtherRandom();
+            it.signsWithOtherSecrets();
+            it.verifiesWithOtherContexts();
+            it.verifiesWithOtherPublics();
+            it.everyHow();
+            it.wrongHows();
         }
-        tries();
-        wrongNumbers();
+        wrongSets();
         Check.end("DsaTest");
     }
 
-    private static LatticeSuite withKeys(int set) {
-        LatticeSuite x = new LatticeSuite();
-        makeKeys(x, set);
-        return x;
-    }
-
-    private static void makeKeys(LatticeSuite x, int set) {
+    private void makeKeys(LatticeSuite x) {
         Check.put(x, Check.RANDOM, Check.some(set, 32));
         x.dsaKeys(set);
         Check.put(x, Check.MESSAGE, Check.some(7, 70));
         Check.put(x, Check.CONTEXT, Check.some(8, 10));
     }
 
-    private static void makePacket(LatticeSuite x, int set) {
-        makeKeys(x, set);
-        x.dsaSign(set, 0);
+    private LatticeSuite withKeys() {
+        LatticeSuite x = new LatticeSuite();
+        makeKeys(x);
+        return x;
     }
 
-    private static void wholeWay(int set) {
+    private byte[] secret() {
+        return plain.keys(Check.some(set, 32))[1];
+    }
+
+    /** Keys and a signature, and bytes everywhere. */
+    private void makePacket(LatticeSuite x) {
+        Check.fill(x);
+        x.end(Check.SPARE, 33);
+        makeKeys(x);
+        x.dsaSign(set, 0);
+        x.feed(1, 2, 3, 4, 5);
+    }
+
+    private void refused(String what, Class<?> want, Check.Making change, Check.Making call) {
+        Check.failsAndChangesNothing("set " + set + ", " + what, want, x -> {
+            makePacket(x);
+            change.make(x);
+        }, call);
+    }
+
+    private void keysOfRandom() {
+        Check.says("Promise 14", "DSA KEYS of RANDOM: PUBLIC is P, SECRET D. Answers the length of D.");
+        for (int i = 0; i < 4; i++) {
+            byte[] random = i == 0 ? new byte[32] : Check.some(i, 32);
+            LatticeSuite x = new LatticeSuite();
+            Check.put(x, Check.RANDOM, random);
+            Check.due("dsaKeys", x.dsaKeys(set), plain.secretSize());
+            byte[][] want = plain.keys(random);
+            Check.slotIs("PUBLIC", x, Check.PUBLIC, want[0]);
+            Check.slotIs("SECRET", x, Check.SECRET, want[1]);
+        }
+    }
+
+    private void lowPartsAtTheirEnds() {
+        Check.says("Terms", "T0 in -4095 .. 4096");
+        for (int end : new int[] {-4095, 4096}) {
+            byte[] random = Check.some(1, 32);
+            byte[][] want = plain.keys(random);
+            while (!hasLow(want[1], end)) {
+                random[31]++;
+                want = plain.keys(random);
+            }
+            LatticeSuite x = new LatticeSuite();
+            Check.put(x, Check.RANDOM, random);
+            x.dsaKeys(set);
+            Check.slotIs("PUBLIC with " + end, x, Check.PUBLIC, want[0]);
+            Check.slotIs("SECRET with " + end, x, Check.SECRET, want[1]);
+        }
+    }
+
+    private boolean hasLow(byte[] secret, int low) {
+        int at = plain.secretSize() - 416 * plain.k;
+        for (int i = 0; i < plain.k; i++) {
+            for (int v : PlainDsa.unpack(secret, at + 416 * i, 4096, 13)) {
+                if (v == low) {
+                    return true;
+                }
+            }
+        }
+        return false;
+    }
+
+    private void keysOfOtherSizes() {
+        Check.says("Promise 14", "RANDOM has not 32 BYTES: IllegalStateException.");
+        for (int n : new int[] {0, 1, 31, 33, 64, FULL}) {
+            refused("dsaKeys with RANDOM of " + n, Check.STATE, x -> x.resize(Check.RANDOM, n), x -> x.dsaKeys(set));
+        }
+    }
+
+    private void signatures() {
+        Check.says("Promise 15", "SIGN(SECRET, SIGNED x, RANDOM): PACKET is the signature."
+                + " Answers how often it was tried.");
+        for (int i = 0; i < 6; i++) {
+            byte[] message = Check.some(i, 10 * i);
+            byte[] random = Check.some(50 + i, 32);
+            signs(i - 1, Check.some(8, 10), message, random);
+        }
+    }
+
+    /** That dsaSign and dsaVerify do as they should with these. */
+    private void signs(int how, byte[] context, byte[] message, byte[] random) {
+        LatticeSuite x = withKeys();
+        Check.put(x, Check.MESSAGE, message);
+        Check.put(x, Check.CONTEXT, context);
+        Check.put(x, Check.RANDOM, random);
+        signs(x, how, context, message, random);
+    }
+
+    private void signs(LatticeSuite x, int how, byte[] context, byte[] message, byte[] random) {
+        byte[] n = random.length == 0 ? new byte[32] : random;
+        byte[][] want = plain.sign(secret(), Plain.signed(how, context, message), n);
+        String what = "set " + set + ", how " + how + ", " + context.length + " and " + message.length + " bytes";
+        Check.due(what, x.dsaSign(set, how), (want[1][0] & 255) * 256 + (want[1][1] & 255));
+        Check.holds(what + ", dsaVerify", x.dsaVerify(set, how));
+        Check.slotIs(what + ", SHARED", x, Check.SHARED, Plain.part(want[0], 0, plain.c));
+        Check.slotIs(what + ", PACKET", x, Check.PACKET, want[0]);
+    }
+
+    private void contexts() {
+        Check.says("Terms", "how 0: 0 | length of CONTEXT | CONTEXT | MESSAGE; how 1 .. 12:"
+                + " 1 | length of CONTEXT | CONTEXT | 6, 9, 96, 134, 72, 1, 101, 3, 4, 2, how | h(MESSAGE)");
+        for (int n : new int[] {0, 1, 127, 128, 254, 255}) {
+            signs(0, Check.some(n, n), Check.some(1, 30), new byte[0]);
+            signs(1 + n % 12, Check.some(n, n), Check.some(1, 30), new byte[0]);
+        }
+    }
+
+    private void contextsOfNoWeight() {
+        Check.says("Promise 15", "how -1: any number is fine");
+        for (int n : new int[] {0, 1, 255, 256, 257, FULL}) {
+            LatticeSuite x = withKeys();
+            x.resize(Check.CONTEXT, n);
+            signs(x, -1, new byte[0], Check.some(7, 70), Check.some(set, 32));
+        }
+    }
+
+    private void messages() {
+        Check.says("Terms", "how -1: MESSAGE alone.");
+        signs(-1, Check.some(8, 10), new byte[0], new byte[0]);
+        signs(0, new byte[0], new byte[0], new byte[0]);
+        signs(7, new byte[0], new byte[0], new byte[0]);
+        for (int how : new int[] {-1, 0, 3, 12}) {
+            LatticeSuite x = withKeys();
+            byte[] many = Check.putMany(x, Check.MESSAGE, how, FULL);
+            x.resize(Check.CONTEXT, 255);
+            byte[] context = java.util.Arrays.copyOf(Check.some(8, 10), 255);
+            signs(x, how, context, many, Check.some(set, 32));
+        }
+    }
+
+    private void withoutRandom() {
+        Check.says("Promise 15", "none: n is zeros");
+        signs(0, Check.some(8, 10), Check.some(7, 70), new byte[0]);
+        signs(0, Check.some(8, 10), Check.some(7, 70), new byte[32]);
+        // What RANDOM held before it was emptied is of no weight.
+        LatticeSuite x = withKeys();
+        x.resize(Check.RANDOM, 0);
+        signs(x, 0, Check.some(8, 10), Check.some(7, 70), new byte[0]);
+    }
+
+    private void signsWithOtherContexts() {
+        Check.says("Promise 15", "CONTEXT has more than 255 BYTES");
+        for (int n : WRONG_CONTEXTS) {
+            for (int how = 0; how <= 12; how += n == 256 ? 1 : 6) {
+                int it = how;
+                refused("dsaSign with CONTEXT of " + n, Check.STATE, x -> x.resize(Check.CONTEXT, n),
+                        x -> x.dsaSign(set, it));
+            }
+            refused("and SECRET of another length", Check.STATE, x -> {
+                x.resize(Check.CONTEXT, n);
+                x.resize(Check.SECRET, plain.secretSize() - 1);
+            }, x -> x.dsaSign(set, 0));
+        }
+    }
+
+    private void signsWithOtherRandom() {
+        Check.says("Promise 15", "or RANDOM neither 32 nor none (none: n is zeros): IllegalStateException");
+        for (int n : WRONG_RANDOMS) {
+            for (int how = -1; how <= 12; how += 13) {
+                int it = how;
+                refused("dsaSign with RANDOM of " + n, Check.STATE, x -> x.resize(Check.RANDOM, n),
+                        x -> x.dsaSign(set, it));
+                refused("and SECRET of another length", Check.STATE, x -> {
+                    x.resize(Check.RANDOM, n);
+                    x.resize(Check.SECRET, 0);
+                }, x -> x.dsaSign(set, it));
+            }
+        }
+    }
+
+    private void signsWithOtherSecrets() {
+        Check.says("Promise 15", "SECRET not as many as a D: UnsupportedOperationException");
+        int size = plain.secretSize();
+        for (int n : new int[] {0, 128, size - 1, size + 1, plain.publicSize(), FULL}) {
+            refused("dsaSign with SECRET of " + n, Check.UNSUPPORTED, x -> x.resize(Check.SECRET, n),
+                    x -> x.dsaSign(set, 3));
+            refused("without RANDOM", Check.UNSUPPORTED, x -> {
+                x.resize(Check.SECRET, n);
+                x.resize(Check.RANDOM, 0);
+            }, x -> x.dsaSign(set, -1));
+        }
+    }
+
+    private void verifiesWithOtherContexts() {
+        Check.says("Promise 16", "CONTEXT as for dsaSign: IllegalStateException");
+        for (int n : WRONG_CONTEXTS) {
+            for (int how = 0; how <= 12; how += n == 256 ? 1 : 6) {
+                int it = how;
+                refused("dsaVerify with CONTEXT of " + n, Check.STATE, x -> x.resize(Check.CONTEXT, n),
+                        x -> x.dsaVerify(set, it));
+            }
+            refused("and PUBLIC of another length", Check.STATE, x -> {
+                x.resize(Check.CONTEXT, n);
+                x.resize(Check.PUBLIC, plain.publicSize() + 1);
+            }, x -> x.dsaVerify(set, 0));
+            refused("and PACKET of none", Check.STATE, x -> {
+                x.resize(Check.CONTEXT, n);
+                x.resize(Check.PACKET, 0);
+            }, x -> x.dsaVerify(set, 0));
+            LatticeSuite x = new LatticeSuite();
+            makePacket(x);
+            x.dsaSign(set, -1);
+            x.resize(Check.CONTEXT, n);
+            Check.holds("how -1 takes it", x.dsaVerify(set, -1));
+        }
+    }
+
+    private void verifiesWithOtherPublics() {
+        Check.says("Promise 16", "PUBLIC has not as many BYTES as a P: UnsupportedOperationException");
+        int size = plain.publicSize();
+        for (int n : new int[] {0, 32, size - 1, size + 1, plain.secretSize(), FULL}) {
+            refused("dsaVerify with PUBLIC of " + n, Check.UNSUPPORTED, x -> x.resize(Check.PUBLIC, n),
+                    x -> x.dsaVerify(set, 0));
+            refused("and PACKET of none", Check.UNSUPPORTED, x -> {
+                x.resize(Check.PUBLIC, n);
+                x.resize(Check.PACKET, 0);
+            }, x -> x.dsaVerify(set, -1));
+        }
         LatticeSuite x = new LatticeSuite();
-        Check.put(x, Check.RANDOM, Check.some(set, 32));
-        Check.due("dsaKeys", x.dsaKeys(set), SECRET_SIZES[set]);
-        Check.due("SECRET", x.length(Check.SECRET), SECRET_SIZES[set]);
-        Check.due("PUBLIC", x.length(Check.PUBLIC), PUBLIC_SIZES[set]);
-        Check.put(x, Check.MESSAGE, Check.some(1, 200));
-        Check.put(x, Check.CONTEXT, Check.some(2, 20));
+        makePacket(x);
+        x.resize(Check.RANDOM, 5);
+        x.resize(Check.SECRET, 0);
+        Check.holds("dsaVerify does not look at RANDOM or SECRET", x.dsaVerify(set, 0));
+    }
+
+    private void everyHow() {
+        Check.says("Promise 16", "set 0 .. 2, how -1 .. 12.");
+        LatticeSuite x = withKeys();
         for (int how = -1; how <= 12; how++) {
             Check.holds("dsaSign", x.dsaSign(set, how) >= 1);
-            Check.due("PACKET", x.length(Check.PACKET), PACKET_SIZES[set]);
             for (int other = -1; other <= 12; other++) {
                 Check.due("dsaVerify " + other + " of " + how, x.dsaVerify(set, other), other == how);
             }
         }
     }
 
-    private static void changes(int set) {
-        LatticeSuite x = new LatticeSuite();
-        makePacket(x, set);
-        x.resize(Check.SHARED, 0);
-        Check.holds("dsaVerify", x.dsaVerify(set, 0));
-        Check.bytes("SHARED is C", Check.get(x, Check.SHARED),
-                Arrays.copyOf(Check.get(x, Check.PACKET), HASHES[set]));
-        for (int[] change : new int[][] {
-            {Check.MESSAGE, 69}, {Check.CONTEXT, 9}, {Check.PUBLIC, 0}, {Check.PUBLIC, PUBLIC_SIZES[set] - 1},
-            {Check.PACKET, 0}, {Check.PACKET, HASHES[set]},
-        }) {
-            x.resize(Check.SHARED, 0);
-            x.alter(change[0], change[1], 4);
-            Check.holds("dsaVerify of a change in " + change[0], !x.dsaVerify(set, 0));
-            Check.due("SHARED is there all the same", x.length(Check.SHARED), HASHES[set]);
-            x.alter(change[0], change[1], 4);
-        }
-        Check.holds("dsaVerify of all changed back", x.dsaVerify(set, 0));
-        x.resize(Check.MESSAGE, 69);
-        Check.holds("dsaVerify of a shorter message", !x.dsaVerify(set, 0));
-    }
-
-    /** No RANDOM is 32 zeros. */
-    private static void withoutRandom(int set) {
-        LatticeSuite x = withKeys(set);
-        x.resize(Check.RANDOM, 0);
-        int tries = x.dsaSign(set, 0);
-        x.copy(Check.PACKET, Check.SPARE);
-        x.resize(Check.RANDOM, 32);
-        Check.due("dsaSign with zeros", x.dsaSign(set, 0), tries);
-        Check.holds("the same signature", x.same(Check.PACKET, Check.SPARE));
-        x.alter(Check.RANDOM, 31, 1);
-        x.dsaSign(set, 0);
-        Check.holds("another signature", !x.same(Check.PACKET, Check.SPARE));
-        Check.holds("good, too", x.dsaVerify(set, 0));
-    }
-
-    private static void contexts(int set) {
-        LatticeSuite x = withKeys(set);
-        x.resize(Check.CONTEXT, 255);
-        x.dsaSign(set, 0);
-        Check.holds("a context of 255", x.dsaVerify(set, 0));
-        x.resize(Check.CONTEXT, 256);
-        for (int how = 0; how <= 12; how++) {
-            int it = how;
-            Check.fails("dsaSign with a context of 256", Check.STATE, () -> x.dsaSign(set, it));
-            Check.fails("dsaVerify with a context of 256", Check.STATE, () -> x.dsaVerify(set, it));
-        }
-        x.dsaSign(set, -1);
-        x.resize(Check.CONTEXT, 0);
-        Check.holds("how -1 does not look at the context", x.dsaVerify(set, -1));
-        Check.put(x, Check.MESSAGE, Check.join(new byte[2], Check.some(7, 70)));
-        x.dsaSign(set, -1);
-        Check.put(x, Check.MESSAGE, Check.some(7, 70));
-        Check.holds("how 0 puts two bytes before the message", x.dsaVerify(set, 0));
-    }
-
-    private static void wrongKeysCalls(int set) {
-        for (int n : new int[] {0, 31, 33, 64}) {
-            Check.failsAndChangesNothing("dsaKeys with RANDOM of " + n, Check.STATE,
-                    x -> x.resize(Check.RANDOM, n), x -> x.dsaKeys(set));
+    private void wrongHows() {
+        Check.says("Promise 15", "set 0 .. 2, how -1 .. 12.");
+        for (int bad : WRONG_HOWS) {
+            refused("dsaSign(.., " + bad + ")", Check.ARGUMENT, x -> { }, x -> x.dsaSign(set, bad));
+            refused("dsaVerify(.., " + bad + ")", Check.ARGUMENT, x -> { }, x -> x.dsaVerify(set, bad));
+            Check.failsAndChangesNothing("dsaSign, with nothing as it should be", Check.ARGUMENT, Check::fill,
+                    x -> x.dsaSign(set, bad));
+            Check.failsAndChangesNothing("dsaVerify, with nothing as it should be", Check.ARGUMENT, Check::fill,
+                    x -> x.dsaVerify(set, bad));
         }
     }
 
-    private static void wrongSigns(int set) {
-        for (int n : new int[] {1, 31, 33, 64}) {
-            Check.failsAndChangesNothing("dsaSign with RANDOM of " + n, Check.STATE, x -> {
-                makePacket(x, set);
-                x.resize(Check.RANDOM, n);
-                x.resize(Check.SECRET, 1);
-            }, x -> x.dsaSign(set, 3));
-        }
-        for (int n : new int[] {0, SECRET_SIZES[set] - 1, SECRET_SIZES[set] + 1, SECRET_SIZES[(set + 1) % 3]}) {
-            Check.failsAndChangesNothing("dsaSign with SECRET of " + n, Check.UNSUPPORTED, x -> {
-                makePacket(x, set);
-                x.resize(Check.SECRET, n);
-            }, x -> x.dsaSign(set, 3));
-        }
-    }
-
-    private static void wrongVerifies(int set) {
-        for (int n : new int[] {0, PUBLIC_SIZES[set] - 1, PUBLIC_SIZES[set] + 1, PUBLIC_SIZES[(set + 1) % 3]}) {
-            Check.failsAndChangesNothing("dsaVerify with PUBLIC of " + n, Check.UNSUPPORTED, x -> {
-                makePacket(x, set);
-                x.resize(Check.PUBLIC, n);
-            }, x -> x.dsaVerify(set, 0));
-        }
-        LatticeSuite x = new LatticeSuite();
-        makePacket(x, set);
-        x.resize(Check.RANDOM, 5);
-        Check.holds("dsaVerify does not look at RANDOM", x.dsaVerify(set, 0));
-        x.resize(Check.SHARED, 3);
-        for (int n : new int[] {0, PACKET_SIZES[set] - 1, PACKET_SIZES[set] + 1}) {
-            x.resize(Check.PACKET, n);
-            Check.holds("dsaVerify with PACKET of " + n, !x.dsaVerify(set, 0));
-            Check.due("SHARED stays", x.length(Check.SHARED), 3);
-        }
-    }
-
-    /** From zeros, in which each Z is g1, through a Z of zeros to hints of each wrong form. */
-    private static void hintsOutOfOrder(int set) {
-        int w = HINTS[set];
-        int k = POLYNOMIALS[set];
-        LatticeSuite x = withKeys(set);
-        x.resize(Check.SHARED, 1);
-        x.resize(Check.PACKET, PACKET_SIZES[set]);
-        Check.holds("Z is too great", !x.dsaVerify(set, 0));
-        Check.due("SHARED stays", x.length(Check.SHARED), 1);
-        byte[] packet = new byte[PACKET_SIZES[set]];
-        int places = PACKET_SIZES[set] - w - k;
-        zeroMasks(set, packet, places);
-        hintsAre(set, packet, true, "no hint");
-        packet[places] = 200 - 256;
-        hintsAre(set, packet, false, "a place behind the last count");
-        Arrays.fill(packet, places + w, packet.length, (byte) 1);
-        hintsAre(set, packet, true, "one hint");
-        packet[packet.length - 1] = 0;
-        hintsAre(set, packet, false, "counts fall");
-        packet[packet.length - 1] = 2;
-        hintsAre(set, packet, true, "a place that does not rise in the next polynomial");
-        packet[packet.length - 2] = 2;
-        Arrays.fill(packet, places + w, packet.length - 2, (byte) 0);
-        hintsAre(set, packet, false, "places that fall");
-        packet[places + 1] = 200 - 256;
-        hintsAre(set, packet, false, "places that are the same");
-        packet[places + 1] = 201 - 256;
-        hintsAre(set, packet, true, "places that rise");
-        for (int i = 0; i < w; i++) {
-            packet[places + i] = (byte) (i + 1);
-        }
-        packet[packet.length - 2] = (byte) w;
-        packet[packet.length - 1] = (byte) w;
-        hintsAre(set, packet, true, "as many as may be");
-        packet[packet.length - 1] = (byte) (w + 1);
-        hintsAre(set, packet, false, "one more");
-        packet[packet.length - 1] = -1;
-        hintsAre(set, packet, false, "255");
-    }
-
-    /** Each number g1, so that each Z is 0: in each 18 or 20 bits the highest alone. */
-    private static void zeroMasks(int set, byte[] packet, int end) {
-        int bits = set == 0 ? 18 : 20;
-        int first = HASHES[set] * 8;
-        for (int bit = first + bits - 1; bit < 8 * end; bit += bits) {
-            packet[bit / 8] |= (byte) (1 << bit % 8);
-        }
-    }
-
-    private static void hintsAre(int set, byte[] packet, boolean good, String what) {
-        LatticeSuite x = withKeys(set);
-        Check.put(x, Check.PACKET, packet);
-        Check.holds("dsaVerify: " + what, !x.dsaVerify(set, 0));
-        Check.due("SHARED: " + what, x.length(Check.SHARED), good ? HASHES[set] : 0);
-    }
-
-    /** A secret with a T0 so great that there are always too many hints: 814 tries are all in vain. */
-    private static void tries() {
-        byte[] secret = new byte[SECRET_SIZES[0]];
-        int start = SECRET_SIZES[0] - 4 * 416;
-        Random random = new Random(1);
-        for (int i = 0; i < 1024; i++) {
-            boolean low = random.nextBoolean();
-            for (int bit = 13 * i; low && bit < 13 * i + 13; bit++) {
-                secret[start + bit / 8] |= (byte) (1 << bit % 8);
-            }
-        }
-        Check.failsAndChangesNothing("dsaSign in vain", Check.ARITHMETIC, x -> {
-            Check.put(x, Check.SECRET, secret);
-            x.resize(Check.PACKET, 9);
-        }, x -> x.dsaSign(0, 0));
-    }
-
-    private static void wrongNumbers() {
-        LatticeSuite x = withKeys(0);
-        x.resize(Check.CONTEXT, 300);
-        for (int bad : new int[] {-1, 3, Integer.MIN_VALUE, Integer.MAX_VALUE}) {
-            Check.fails("dsaKeys(" + bad + ")", Check.ARGUMENT, () -> x.dsaKeys(bad));
-            Check.fails("dsaSign(" + bad + ", 0)", Check.ARGUMENT, () -> x.dsaSign(bad, 0));
-            Check.fails("dsaVerify(" + bad + ", 0)", Check.ARGUMENT, () -> x.dsaVerify(bad, 0));
-        }
-        for (int bad : new int[] {-2, 13, Integer.MIN_VALUE, Integer.MAX_VALUE}) {
-            Check.fails("dsaSign(0, " + bad + ")", Check.ARGUMENT, () -> x.dsaSign(0, bad));
-            Check.fails("dsaVerify(0, " + bad + ")", Check.ARGUMENT, () -> x.dsaVerify(0, bad));
+    private static void wrongSets() {
+        Check.says("Promise 14", "set 0 .. 2.");
+        DsaTest last = new DsaTest(2);
+        for (int bad : WRONG_SETS) {
+            last.refused("dsaKeys(" + bad + ")", Check.ARGUMENT, x -> { }, x -> x.dsaKeys(bad));
+            last.refused("dsaSign(" + bad + ", 0)", Check.ARGUMENT, x -> { }, x -> x.dsaSign(bad, 0));
+            last.refused("dsaVerify(" + bad + ", 0)", Check.ARGUMENT, x -> { }, x -> x.dsaVerify(bad, 0));
+            Check.Making nothingGood = x -> {
+                Check.fill(x);
+                x.resize(Check.CONTEXT, 256);
+            };
+            Check.failsAndChangesNothing("dsaKeys", Check.ARGUMENT, nothingGood, x -> x.dsaKeys(bad));
+            Check.failsAndChangesNothing("dsaSign", Check.ARGUMENT, nothingGood, x -> x.dsaSign(bad, 0));
+            Check.failsAndChangesNothing("dsaVerify", Check.ARGUMENT, nothingGood, x -> x.dsaVerify(bad, 0));
+            Check.failsAndChangesNothing("both numbers", Check.ARGUMENT, nothingGood, x -> x.dsaSign(bad, 13));
+            Check.failsAndChangesNothing("both numbers", Check.ARGUMENT, nothingGood, x -> x.dsaVerify(bad, 13));
         }
     }
 }
