@@ -50,7 +50,7 @@ final class Check {
         holds("the document says so", section(heading).contains(quoted));
     }
 
-    private static String section(String heading) {
+    static String section(String heading) {
         try {
             if (document == null) {
                 document = Files.readAllLines(DOCUMENT);

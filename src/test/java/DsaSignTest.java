@@ -7,7 +7,7 @@ import java.util.Random;
  * it just comes through, or just does not.
  */
 public final class DsaSignTest {
-    private static final int MOST_MESSAGES = 5000;
+    private static final int MOST_MESSAGES = 100_000;
     /** The number of a message that no try of 814 signs, with the secret of inVain. */
     private static final int IN_VAIN = 2;
 
@@ -15,6 +15,11 @@ public final class DsaSignTest {
     private final PlainDsa plain;
     private final byte[] start;
     private final Random random = new Random(1);
+
+    /** Which places of which polynomials will do. */
+    private interface Places {
+        boolean take(int i, int c);
+    }
 
     private DsaSignTest(int set) {
         this.set = set;
@@ -25,18 +30,26 @@ public final class DsaSignTest {
     public static void main(String[] args) {
         for (int set = 0; set < 3; set++) {
             DsaSignTest it = new DsaSignTest(set);
-            it.masks(1);
-            it.masks(-1);
-            it.lows(1, false);
-            it.lows(-1, false);
-            it.lows(-1, true);
+            int lastMask = it.plain.l - 1;
+            it.masks(1, (i, c) -> i == 0);
+            it.masks(-1, (i, c) -> i == lastMask);
+            it.masks(1, (i, c) -> c == 0);
+            it.masks(-1, (i, c) -> c == 255);
+            int lastLow = it.plain.k - 1;
+            it.lows(1, false, (i, c) -> i == 0);
+            it.lows(-1, false, (i, c) -> i == lastLow);
+            it.lows(0, false, (i, c) -> c == 0);
+            it.lows(0, false, (i, c) -> c == 255);
+            it.lows(-1, true, (i, c) -> true);
             it.asManyHints();
             it.hintsOfOnePolynomial();
             it.anySecrets();
         }
         DsaSignTest first = new DsaSignTest(0);
-        first.shifts(1);
-        first.shifts(-1);
+        first.shifts(1, 0, 0);
+        first.shifts(-1, 0, 255);
+        first.shifts(-1, 3, 0);
+        first.shifts(1, 3, 255);
         first.inVain();
         Check.end("DsaSignTest");
     }
@@ -91,25 +104,38 @@ public final class DsaSignTest {
                 first, second, lows);
     }
 
-    private void masks(int sign) {
+    private void masks(int sign, Places places) {
         Check.says("Terms", "It starts anew (the next a) if a |Z i| is g1 - B or more");
-        int bound = plain.g1 - plain.most;
         for (int message = 0; message < MOST_MESSAGES; message++) {
-            PlainDsa.Try it = tryOf(message).with(zeros(plain.l), zeros(plain.k), zeros(plain.k));
-            for (int i = 0; i < plain.l && it.mostLow < plain.g2 - plain.most; i++) {
+            int[][] y = plain.masks(start, message(message), new byte[32], 0);
+            for (int i = 0; i < plain.l; i++) {
                 for (int c = 0; c < 256; c++) {
-                    int[][] below = maskTo(it, i, c, sign * (bound - 1));
-                    int[][] at = maskTo(it, i, c, sign * bound);
-                    if (below.length > 0 && at.length > 0) {
-                        signs("a Z of " + sign + " (g1 - B - 1)", message, true, below, zeros(plain.k),
-                                zeros(plain.k));
-                        signs("a Z of " + sign + " (g1 - B)", message, false, at, zeros(plain.k), zeros(plain.k));
+                    boolean near = Math.abs(sign * y[i][c] - plain.g1 + plain.most) < plain.most;
+                    if (near && places.take(i, c) && masksAt(message, i, c, sign)) {
                         return;
                     }
                 }
             }
         }
         Check.holds("a message with such a Z was found", false);
+    }
+
+    /** Whether the number of Z at this place could be brought to the bound with this message. */
+    private boolean masksAt(int message, int i, int c, int sign) {
+        int bound = plain.g1 - plain.most;
+        PlainDsa.Try it = tryOf(message).with(zeros(plain.l), zeros(plain.k), zeros(plain.k));
+        if (it.mostLow >= plain.g2 - plain.most) {
+            return false;
+        }
+        int[][] below = maskTo(it, i, c, sign * (bound - 1));
+        int[][] at = maskTo(it, i, c, sign * bound);
+        if (below.length == 0 || at.length == 0) {
+            return false;
+        }
+        String what = "a Z at " + i + ", " + c + " of " + sign;
+        signs(what + " (g1 - B - 1)", message, true, below, zeros(plain.k), zeros(plain.k));
+        signs(what + " (g1 - B)", message, false, at, zeros(plain.k), zeros(plain.k));
+        return true;
     }
 
     /** An S that makes one number of Z this, and all others smaller; none, if there is none. */
@@ -134,29 +160,51 @@ public final class DsaSignTest {
         return count == 1;
     }
 
-    /** At the top, next to q, LOW is less by 1 than the number modulo 2 g2. */
-    private void lows(int sign, boolean top) {
+    /** Of either sign, if it is 0. At the top, next to q, LOW is less by 1 than the number modulo 2 g2. */
+    private void lows(int sign, boolean top, Places places) {
         Check.says("Terms", "or a |LOW of X i| g2 - B or more");
-        int bound = plain.g2 - plain.most;
         for (int message = 0; message < MOST_MESSAGES; message++) {
-            PlainDsa.Try it = tryOf(message).with(zeros(plain.l), zeros(plain.k), zeros(plain.k));
-            for (int i = 0; i < plain.k && it.mostZ < plain.g1 - plain.most; i++) {
+            if (!smallMasks(message)) {
+                continue;
+            }
+            PlainDsa.Try it = tryOf(message);
+            for (int i = 0; i < plain.k; i++) {
                 for (int c = 0; c < 256; c++) {
-                    if (top != it.w[i][c] > PlainDsa.Q - 1 - plain.g2) {
-                        continue;
-                    }
-                    int[][] below = lowTo(it, i, c, sign * (bound - 1));
-                    int[][] at = lowTo(it, i, c, sign * bound);
-                    if (below.length > 0 && at.length > 0) {
-                        signs("a LOW of " + sign + " (g2 - B - 1)", message, true, zeros(plain.l), below,
-                                zeros(plain.k));
-                        signs("a LOW of " + sign + " (g2 - B)", message, false, zeros(plain.l), at, zeros(plain.k));
+                    int low = plain.low(it.w[i][c]);
+                    boolean wanted = places.take(i, c) && top == it.w[i][c] > PlainDsa.Q - 1 - plain.g2
+                            && (sign == 0 || sign > 0 == low > 0);
+                    if (wanted && lowsAt(it, message, i, c, low > 0 ? 1 : -1)) {
                         return;
                     }
                 }
             }
         }
         Check.holds("a message with such a LOW was found", false);
+    }
+
+    private boolean smallMasks(int message) {
+        for (int[] f : plain.masks(start, message(message), new byte[32], 0)) {
+            for (int v : f) {
+                if (Math.abs(v) >= plain.g1 - plain.most) {
+                    return false;
+                }
+            }
+        }
+        return true;
+    }
+
+    /** Whether LOW of the number of X at this place could be brought to the bound with this message. */
+    private boolean lowsAt(PlainDsa.Try it, int message, int i, int c, int sign) {
+        int bound = plain.g2 - plain.most;
+        int[][] below = lowTo(it, i, c, sign * (bound - 1));
+        int[][] at = lowTo(it, i, c, sign * bound);
+        if (below.length == 0 || at.length == 0) {
+            return false;
+        }
+        String what = "a LOW at " + i + ", " + c + " of " + sign;
+        signs(what + " (g2 - B - 1)", message, true, zeros(plain.l), below, zeros(plain.k));
+        signs(what + " (g2 - B)", message, false, zeros(plain.l), at, zeros(plain.k));
+        return true;
     }
 
     /** An E that makes LOW of one number of X this, and all others smaller; none, if there is none. */
@@ -172,12 +220,10 @@ public final class DsaSignTest {
     }
 
     /** In sets 1 and 2 no T0 of 13 bits comes so far. */
-    private void shifts(int sign) {
+    private void shifts(int sign, int i, int c) {
         Check.says("Terms", "or if a |b T0 i| is g2 or more");
         for (int message = 0; message < MOST_MESSAGES; message++) {
             PlainDsa.Try it = tryOf(message);
-            int c = message % 256;
-            int i = message % plain.k;
             int[][] below = zeros(plain.k);
             int[][] at = zeros(plain.k);
             below[i] = made(it.ball, c, sign * (plain.g2 - 1), 4095);
@@ -185,8 +231,9 @@ public final class DsaSignTest {
             it.with(zeros(plain.l), zeros(plain.k), at);
             boolean onlyShift = it.mostShift == plain.g2 && it.hints <= plain.w;
             if (onlyShift && it.with(zeros(plain.l), zeros(plain.k), below).holds()) {
-                signs("a b T0 of " + sign + " (g2 - 1)", message, true, zeros(plain.l), zeros(plain.k), below);
-                signs("a b T0 of " + sign + " g2", message, false, zeros(plain.l), zeros(plain.k), at);
+                String what = "a b T0 at " + i + ", " + c + " of " + sign;
+                signs(what + " (g2 - 1)", message, true, zeros(plain.l), zeros(plain.k), below);
+                signs(what + " g2", message, false, zeros(plain.l), zeros(plain.k), at);
                 return;
             }
         }
@@ -239,24 +286,26 @@ public final class DsaSignTest {
             Check.holds("there are hints", it.with(zeros(plain.l), zeros(plain.k), lows).hints > 0);
             signs("HINTS in polynomial " + i, message, true, zeros(plain.l), zeros(plain.k), lows);
         }
-        endPlaces(it, message, 0);
-        endPlaces(it, message, 255);
+        hintAt(0, 0);
+        hintAt(0, 255);
+        hintAt(plain.k - 1, 0);
+        hintAt(plain.k - 1, 255);
     }
 
-    /** A hint at the first or at the last place of all. */
-    private void endPlaces(PlainDsa.Try it, int message, int c) {
-        int i = c == 0 ? 0 : plain.k - 1;
-        int far = plain.g2 - Math.abs(plain.low(it.w[i][c]));
-        int sign = plain.low(it.w[i][c]) > 0 ? 1 : -1;
-        int[][] lows = zeros(plain.k);
-        // So far that HIGH is another one, if T0 reaches so far; else there is nothing to see here.
-        if (far + 2 <= 4095 * plain.t) {
-            lows[i] = made(it.ball, c, sign * (far + 2), 4095);
+    /** A T0 that moves HIGH at this place. */
+    private void hintAt(int i, int c) {
+        for (int message = 0; message < MOST_MESSAGES; message++) {
+            PlainDsa.Try it = tryOf(message);
+            int low = plain.low(it.w[i][c]);
+            int far = plain.g2 - Math.abs(low) + 2;
+            int[][] lows = zeros(plain.k);
+            lows[i] = made(it.ball, c, low > 0 ? far : -far, 4095);
+            if (it.with(zeros(plain.l), zeros(plain.k), lows).holds() && it.hinted[i][c]) {
+                signs("a HINT at " + i + ", " + c, message, true, zeros(plain.l), zeros(plain.k), lows);
+                return;
+            }
         }
-        it.with(zeros(plain.l), zeros(plain.k), lows);
-        if (it.holds()) {
-            signs("a HINT at " + c, message, true, zeros(plain.l), zeros(plain.k), lows);
-        }
+        Check.holds("a message for a hint at " + i + ", " + c + " was found", false);
     }
 
     /** The greatest and the least numbers that the bits can hold, though no keys have the least. */

@@ -1,3 +1,5 @@
+import java.util.Arrays;
+
 /**
  * Promises 14 to 16: the keys of the signatures over modules, what is signed, and what is refused, sentence by
  * sentence. The edges of SIGN and VERIFY stand in DsaSignTest and DsaVerifyTest, ordinary bytes in runs/dsa.txt.
@@ -22,6 +24,7 @@ public final class DsaTest {
             DsaTest it = new DsaTest(set);
             it.keysOfRandom();
             it.lowPartsAtTheirEnds();
+            it.smallNumbers();
             it.keysOfOtherSizes();
             it.signatures();
             it.contexts();
@@ -115,6 +118,26 @@ public final class DsaTest {
         return false;
     }
 
+    /** Seeds at which the last number of S 0 comes of the lower and of the higher four bits of a byte. */
+    private void smallNumbers() {
+        Check.says("Terms", "e 2: below 15: 2 - v % 5; e 4: below 9: 4 - v; others give none");
+        for (int half = 0; half < 2; half++) {
+            byte[] random = Check.some(2, 32);
+            while (lastHalf(random) != half) {
+                random[31]++;
+            }
+            LatticeSuite x = new LatticeSuite();
+            Check.put(x, Check.RANDOM, random);
+            x.dsaKeys(set);
+            Check.slotIs("SECRET", x, Check.SECRET, plain.keys(random)[1]);
+        }
+    }
+
+    private int lastHalf(byte[] random) {
+        byte[] seeds = Plain.shake256(Check.join(random, Plain.of(plain.k, plain.l)), 128);
+        return (plain.smallHalves(Check.join(Plain.part(seeds, 32, 64), Plain.le(0, 2))) + 1) % 2;
+    }
+
     private void keysOfOtherSizes() {
         Check.says("Promise 14", "RANDOM has not 32 BYTES: IllegalStateException.");
         for (int n : new int[] {0, 1, 31, 33, 64, FULL}) {
@@ -125,10 +148,8 @@ public final class DsaTest {
     private void signatures() {
         Check.says("Promise 15", "SIGN(SECRET, SIGNED x, RANDOM): PACKET is the signature."
                 + " Answers how often it was tried.");
-        for (int i = 0; i < 6; i++) {
-            byte[] message = Check.some(i, 10 * i);
-            byte[] random = Check.some(50 + i, 32);
-            signs(i - 1, Check.some(8, 10), message, random);
+        for (int how = -1; how <= 12; how++) {
+            signs(how, Check.some(8, 10), Check.some(how, 20 + 10 * how), Check.some(50 + how, 32));
         }
     }
 
@@ -178,7 +199,7 @@ public final class DsaTest {
             LatticeSuite x = withKeys();
             byte[] many = Check.putMany(x, Check.MESSAGE, how, FULL);
             x.resize(Check.CONTEXT, 255);
-            byte[] context = java.util.Arrays.copyOf(Check.some(8, 10), 255);
+            byte[] context = Arrays.copyOf(Check.some(8, 10), 255);
             signs(x, how, context, many, Check.some(set, 32));
         }
     }
@@ -293,9 +314,12 @@ public final class DsaTest {
         Check.says("Promise 15", "set 0 .. 2, how -1 .. 12.");
         for (int bad : WRONG_HOWS) {
             refused("dsaSign(.., " + bad + ")", Check.ARGUMENT, x -> { }, x -> x.dsaSign(set, bad));
-            refused("dsaVerify(.., " + bad + ")", Check.ARGUMENT, x -> { }, x -> x.dsaVerify(set, bad));
             Check.failsAndChangesNothing("dsaSign, with nothing as it should be", Check.ARGUMENT, Check::fill,
                     x -> x.dsaSign(set, bad));
+        }
+        Check.says("Promise 16", "set 0 .. 2, how -1 .. 12.");
+        for (int bad : WRONG_HOWS) {
+            refused("dsaVerify(.., " + bad + ")", Check.ARGUMENT, x -> { }, x -> x.dsaVerify(set, bad));
             Check.failsAndChangesNothing("dsaVerify, with nothing as it should be", Check.ARGUMENT, Check::fill,
                     x -> x.dsaVerify(set, bad));
         }
@@ -303,20 +327,27 @@ public final class DsaTest {
 
     private static void wrongSets() {
         Check.says("Promise 14", "set 0 .. 2.");
-        DsaTest last = new DsaTest(2);
+        wrongSets("dsaKeys", (x, set) -> x.dsaKeys(set));
+        Check.says("Promise 15", "set 0 .. 2, how -1 .. 12.");
+        wrongSets("dsaSign", (x, set) -> x.dsaSign(set, 0));
+        wrongSets("dsaSign, both numbers", (x, set) -> x.dsaSign(set, 13));
+        Check.says("Promise 16", "set 0 .. 2, how -1 .. 12.");
+        wrongSets("dsaVerify", (x, set) -> x.dsaVerify(set, 0));
+        wrongSets("dsaVerify, both numbers", (x, set) -> x.dsaVerify(set, -2));
+    }
+
+    private interface OfSet {
+        void call(LatticeSuite x, int set);
+    }
+
+    /** With slots that are right for set 2, and with slots that are right for none. */
+    private static void wrongSets(String name, OfSet it) {
         for (int bad : WRONG_SETS) {
-            last.refused("dsaKeys(" + bad + ")", Check.ARGUMENT, x -> { }, x -> x.dsaKeys(bad));
-            last.refused("dsaSign(" + bad + ", 0)", Check.ARGUMENT, x -> { }, x -> x.dsaSign(bad, 0));
-            last.refused("dsaVerify(" + bad + ", 0)", Check.ARGUMENT, x -> { }, x -> x.dsaVerify(bad, 0));
-            Check.Making nothingGood = x -> {
+            new DsaTest(2).refused(name + " of set " + bad, Check.ARGUMENT, x -> { }, x -> it.call(x, bad));
+            Check.failsAndChangesNothing(name + " of set " + bad, Check.ARGUMENT, x -> {
                 Check.fill(x);
                 x.resize(Check.CONTEXT, 256);
-            };
-            Check.failsAndChangesNothing("dsaKeys", Check.ARGUMENT, nothingGood, x -> x.dsaKeys(bad));
-            Check.failsAndChangesNothing("dsaSign", Check.ARGUMENT, nothingGood, x -> x.dsaSign(bad, 0));
-            Check.failsAndChangesNothing("dsaVerify", Check.ARGUMENT, nothingGood, x -> x.dsaVerify(bad, 0));
-            Check.failsAndChangesNothing("both numbers", Check.ARGUMENT, nothingGood, x -> x.dsaSign(bad, 13));
-            Check.failsAndChangesNothing("both numbers", Check.ARGUMENT, nothingGood, x -> x.dsaVerify(bad, 13));
+            }, x -> it.call(x, bad));
         }
     }
 }

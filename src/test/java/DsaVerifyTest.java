@@ -21,6 +21,7 @@ public final class DsaVerifyTest {
         for (int set = 0; set < 3; set++) {
             DsaVerifyTest it = new DsaVerifyTest(set);
             it.goodAndChanged();
+            it.sharedStays();
             it.sizes();
             it.countsDoNotFall();
             it.countsAreAtMostW();
@@ -126,6 +127,27 @@ public final class DsaVerifyTest {
         x.resize(Check.MESSAGE, 70);
         x.resize(Check.CONTEXT, 9);
         Check.holds("a byte less in CONTEXT", !x.dsaVerify(set, 0));
+    }
+
+    private void sharedStays() {
+        Check.says("Promise 16", "where it is false before that SHARED stays.");
+        byte[] good = packet(someMasks(), new int[0][]);
+        byte[] tooGreat = good.clone();
+        Arrays.fill(tooGreat, plain.c, plain.c + 20, (byte) 0);
+        byte[][] packets = {
+            Arrays.copyOf(good, good.length - 1), withCounts(withHints(), plain.w + 1),
+            withCounts(withHints(5, 6), 2, 1), withCounts(withHints(5, 5), 2), withHints(5), tooGreat,
+        };
+        for (byte[] packet : packets) {
+            for (int size : new int[] {0, 1, plain.c, Check.FULL}) {
+                LatticeSuite x = new LatticeSuite();
+                byte[] shared = Check.putMany(x, Check.SHARED, 3, size);
+                Check.put(x, Check.PUBLIC, noTop);
+                Check.put(x, Check.PACKET, packet);
+                Check.due("dsaVerify", x.dsaVerify(set, 0), false);
+                Check.slotIs("SHARED of " + size, x, Check.SHARED, shared);
+            }
+        }
     }
 
     private void sizes() {

@@ -242,16 +242,26 @@ public final class LimitsTest {
         return random;
     }
 
+    /** With a byte of which the last number takes one half, and with one of which it takes the other. */
     private static void dsaSmall(int set) throws Exception {
         Check.says("Terms", "at most 481, else ArithmeticException");
         PlainDsa plain = new PlainDsa(set);
-        byte[] random = Check.some(4, 32);
+        for (int half = 0; half < 2; half++) {
+            byte[] random = Check.some(4, 32);
+            while (mostHalves(plain, random) % 2 != half) {
+                random[0]++;
+            }
+            limit("MOST_SMALL", 481, (mostHalves(plain, random) + 1) / 2, dsaRandom(random), "dsaKeys", set);
+        }
+    }
+
+    private static int mostHalves(PlainDsa plain, byte[] random) {
         byte[] seeds = Plain.shake256(Check.join(random, Plain.of(plain.k, plain.l)), 128);
         int most = 0;
         for (int i = 0; i < plain.k + plain.l; i++) {
-            most = Math.max(most, plain.smallBytes(Check.join(Plain.part(seeds, 32, 64), Plain.le(i, 2))));
+            most = Math.max(most, plain.smallHalves(Check.join(Plain.part(seeds, 32, 64), Plain.le(i, 2))));
         }
-        limit("MOST_SMALL", 481, most, dsaRandom(random), "dsaKeys", set);
+        return most;
     }
 
     private static void dsaBall(int set) throws Exception {

@@ -148,14 +148,13 @@ final class PlainDsa {
         return matrix;
     }
 
-    /** How many bytes SMALL takes. */
-    int smallBytes(byte[] x) {
+    /** How many halves of bytes SMALL takes. */
+    int smallHalves(byte[] x) {
         byte[] from = Plain.shake256(x, 481);
         int have = 0;
         int i = 0;
         while (have < 256) {
-            have += (from[i] & 15) < (e == 2 ? 15 : 9) ? 1 : 0;
-            have += (from[i] >> 4 & 15) < (e == 2 ? 15 : 9) ? 1 : 0;
+            have += (from[i / 2] >> 4 * (i % 2) & 15) < (e == 2 ? 15 : 9) ? 1 : 0;
             i++;
         }
         return i;
@@ -300,6 +299,18 @@ final class PlainDsa {
         return d;
     }
 
+    /** The Y of the try of SIGN that begins with a. */
+    int[][] masks(byte[] d, byte[] signed, byte[] n, int a) {
+        byte[] m = Plain.shake256(Check.join(Plain.part(d, 64, 64), signed), 64);
+        byte[] o = Plain.shake256(Check.join(Plain.part(d, 32, 32), n, m), 64);
+        int[][] y = new int[l][];
+        for (int i = 0; i < l; i++) {
+            byte[] from = Plain.shake256(Check.join(o, Plain.le(a + i, 2)), 32 * maskBits);
+            y[i] = unpack(from, 0, g1, maskBits);
+        }
+        return y;
+    }
+
     /** One of the tries of SIGN, and what comes of it. */
     final class Try {
         final int[][] y = new int[l][];
@@ -308,6 +319,7 @@ final class PlainDsa {
         final int[] ball;
         final int[][] z = new int[l][256];
         final int[][] x = new int[k][256];
+        final boolean[][] hinted = new boolean[k][256];
         int mostZ;
         int mostLow;
         int mostShift;
@@ -317,14 +329,9 @@ final class PlainDsa {
 
         /** Its masks, hash and ball: these come of r, K and the hash in D alone. */
         Try(byte[] d, byte[] signed, byte[] n, int a) {
-            byte[] m = Plain.shake256(Check.join(Plain.part(d, 64, 64), signed), 64);
-            byte[] o = Plain.shake256(Check.join(Plain.part(d, 32, 32), n, m), 64);
-            for (int i = 0; i < l; i++) {
-                byte[] from = Plain.shake256(Check.join(o, Plain.le(a + i, 2)), 32 * maskBits);
-                y[i] = unpack(from, 0, g1, maskBits);
-            }
+            byte[] text = Plain.shake256(Check.join(Plain.part(d, 64, 64), signed), 64);
+            System.arraycopy(masks(d, signed, n, a), 0, y, 0, l);
             int[][] points = ntt(y);
-            byte[] text = m;
             for (int i = 0; i < k; i++) {
                 w[i] = unntt(row(matrixOf(Plain.part(d, 0, 32))[i], points));
                 int[] highs = new int[256];
@@ -357,7 +364,8 @@ final class PlainDsa {
                     x[i][j] = Math.floorMod(w[i][j] - by[j], Q);
                     mostLow = Math.max(mostLow, Math.abs(low(x[i][j])));
                     mostShift = Math.max(mostShift, Math.abs(shift[j]));
-                    if (high(Math.floorMod(x[i][j] + shift[j], Q)) != high(x[i][j])) {
+                    hinted[i][j] = high(Math.floorMod(x[i][j] + shift[j], Q)) != high(x[i][j]);
+                    if (hinted[i][j]) {
                         places[hints++] = (byte) j;
                     }
                 }

@@ -97,7 +97,7 @@ public final class SlhTest {
     private void signatures() {
         Check.says("Promise 18", "SIGN(SECRET, SIGNED x, RANDOM): PACKET is the signature. Answers its length.");
         byte[] secret = Check.join(seeds(), Check.some(3, n));
-        for (int how = -1; how <= 12; how += 4) {
+        for (int how : new int[] {-1, set}) {
             byte[] context = Check.some(how, 20 + how);
             byte[] message = Check.some(1, 100 + how);
             LatticeSuite x = new LatticeSuite();
@@ -420,16 +420,19 @@ public final class SlhTest {
     }
 
     private void wrongHows() {
+        Check.Making nothingGood = x -> {
+            Check.fill(x);
+            x.resize(Check.CONTEXT, 256);
+        };
         Check.says("Promise 18", "set 0 .. 11, how -1 .. 12.");
         for (int bad : WRONG_HOWS) {
             refused("slhSign(.., " + bad + ")", Check.ARGUMENT, x -> { }, x -> x.slhSign(set, bad));
-            refused("slhVerify(.., " + bad + ")", Check.ARGUMENT, x -> { }, x -> x.slhVerify(set, bad));
-            Check.Making nothingGood = x -> {
-                Check.fill(x);
-                x.resize(Check.CONTEXT, 256);
-            };
             Check.failsAndChangesNothing("slhSign, with nothing as it should be", Check.ARGUMENT, nothingGood,
                     x -> x.slhSign(set, bad));
+        }
+        Check.says("Promise 19", "set 0 .. 11, how -1 .. 12.");
+        for (int bad : WRONG_HOWS) {
+            refused("slhVerify(.., " + bad + ")", Check.ARGUMENT, x -> { }, x -> x.slhVerify(set, bad));
             Check.failsAndChangesNothing("slhVerify, with nothing as it should be", Check.ARGUMENT, nothingGood,
                     x -> x.slhVerify(set, bad));
         }
@@ -437,23 +440,34 @@ public final class SlhTest {
 
     private static void wrongSets() {
         Check.says("Promise 17", "set 0 .. 11.");
+        wrongSets("slhKeys", (x, set) -> x.slhKeys(set));
+        Check.says("Promise 18", "set 0 .. 11, how -1 .. 12.");
+        wrongSets("slhSign", (x, set) -> x.slhSign(set, 0));
+        wrongSets("slhSign, both numbers", (x, set) -> x.slhSign(set, 13));
+        Check.says("Promise 19", "set 0 .. 11, how -1 .. 12.");
+        wrongSets("slhVerify", (x, set) -> x.slhVerify(set, 0));
+        wrongSets("slhVerify, both numbers", (x, set) -> x.slhVerify(set, -2));
+        Check.says("Promise 20", "set 0 .. 11");
+        wrongSets("slhNode", (x, set) -> x.slhNode(set, 0, 0, 0, 0));
+        wrongSets("slhNode, all numbers", (x, set) -> x.slhNode(set, -1, -1, -1, -1));
+    }
+
+    private interface OfSet {
+        void call(LatticeSuite x, int set);
+    }
+
+    /** With slots that are right for sets 5 and 11, and with slots that are right for none. */
+    private static void wrongSets(String name, OfSet it) {
         for (int bad : WRONG_SETS) {
             for (int like = 5; like < 12; like += 6) {
-                SlhTest it = new SlhTest(like);
-                Check.Making random = x -> x.resize(Check.RANDOM, 3 * it.n);
-                it.refused("slhKeys(" + bad + ")", Check.ARGUMENT, random, x -> x.slhKeys(bad));
-                it.refused("slhSign(" + bad + ", 0)", Check.ARGUMENT, x -> { }, x -> x.slhSign(bad, 0));
-                it.refused("slhVerify(" + bad + ", 0)", Check.ARGUMENT, x -> { }, x -> x.slhVerify(bad, 0));
-                it.refused("slhNode(" + bad + ", ..)", Check.ARGUMENT, x -> { }, x -> x.slhNode(bad, 0, 0, 0, 0));
+                SlhTest test = new SlhTest(like);
+                Check.Making random = x -> x.resize(Check.RANDOM, test.n * (name.equals("slhKeys") ? 3 : 1));
+                test.refused(name + " of set " + bad, Check.ARGUMENT, random, x -> it.call(x, bad));
             }
-            Check.Making nothingGood = x -> {
+            Check.failsAndChangesNothing(name + " of set " + bad, Check.ARGUMENT, x -> {
                 Check.fill(x);
                 x.resize(Check.CONTEXT, 256);
-            };
-            Check.failsAndChangesNothing("slhKeys", Check.ARGUMENT, nothingGood, x -> x.slhKeys(bad));
-            Check.failsAndChangesNothing("slhSign", Check.ARGUMENT, nothingGood, x -> x.slhSign(bad, 13));
-            Check.failsAndChangesNothing("slhVerify", Check.ARGUMENT, nothingGood, x -> x.slhVerify(bad, 13));
-            Check.failsAndChangesNothing("slhNode", Check.ARGUMENT, nothingGood, x -> x.slhNode(bad, -1, -1, -1, -1));
+            }, x -> it.call(x, bad));
         }
     }
 }

@@ -107,6 +107,7 @@ public final class SlotsTest {
         for (int i = 0; i < 3; i++) {
             Check.fails("feed of a full tape", Check.INDEX, () -> x.feed(1, 2, 3, 4, 5));
         }
+        Check.says("Terms", "The TAPE holds BYTES, too, at most 65536.");
         Check.fails("end of more than it holds", Check.INDEX, () -> x.end(0, FULL - 15));
         Check.due("end of all of it", x.end(0, FULL - 16), FULL - 16);
         Check.due("its first bytes", x.word(0, 0), 20L << 32);
@@ -291,9 +292,10 @@ public final class SlotsTest {
         Check.says("Promise 6", "v 0 .. 255");
         LatticeSuite x = new LatticeSuite();
         x.resize(0, 1);
+        int is = 0;
         for (int v = 0; v < 256; v++) {
-            Check.due("alter", x.alter(0, 0, v), v);
-            x.alter(0, 0, v);
+            is ^= v;
+            Check.due("alter", x.alter(0, 0, v), is);
         }
         for (int bad : new int[] {-1, 256, Integer.MIN_VALUE, Integer.MAX_VALUE}) {
             refused("alter(0, 0, " + bad + ")", Check.ARGUMENT, y -> y.alter(0, 0, bad));
