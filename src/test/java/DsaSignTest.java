@@ -8,7 +8,7 @@ import java.util.Random;
  */
 public final class DsaSignTest {
     private static final int MOST_MESSAGES = 100_000;
-    /** The number of a message that no try of 814 signs, with the secret of inVain. */
+    /** The number of a message that no try of 814 signs, with greatSecret. */
     private static final int IN_VAIN = 2;
 
     private final int set;
@@ -333,23 +333,34 @@ public final class DsaSignTest {
         return all;
     }
 
-    /** A T0 so great that there are mostly too many hints. In runs/dsa.txt try 814 signs, and 815 would. */
-    private void inVain() {
-        Check.says("Terms", "After 814 of them: ArithmeticException.");
+    /** A secret of set 0 with a T0 so great that there are mostly too many hints. */
+    static byte[] greatSecret() {
+        DsaSignTest it = new DsaSignTest(0);
         Random own = new Random(2);
-        int[][] lows = zeros(plain.k);
+        int[][] lows = it.zeros(it.plain.k);
         for (int[] f : lows) {
             for (int c = 0; c < 256; c++) {
                 f[c] = own.nextBoolean() ? 4096 : -4095;
             }
         }
-        byte[] secret = secret(zeros(plain.l), zeros(plain.k), lows);
-        Check.fails("SIGN", Check.ARITHMETIC, () -> plain.sign(secret, message(IN_VAIN), new byte[32]));
+        return it.secret(it.zeros(it.plain.l), it.zeros(it.plain.k), lows);
+    }
+
+    /** A message that no try of 814 signs with that secret. */
+    static byte[] messageInVain() {
+        return new DsaSignTest(0).message(IN_VAIN);
+    }
+
+    /** In runs/dsa.txt there is a message that try 814 signs, and one that try 815 would. */
+    private void inVain() {
+        Check.says("Terms", "After 814 of them: ArithmeticException.");
+        byte[] secret = greatSecret();
+        Check.fails("SIGN", Check.ARITHMETIC, () -> plain.sign(secret, messageInVain(), new byte[32]));
         Check.failsAndChangesNothing("dsaSign", Check.ARITHMETIC, x -> {
             Check.fill(x);
             x.end(Check.SPARE, 33);
             Check.put(x, Check.SECRET, secret);
-            Check.put(x, Check.MESSAGE, message(IN_VAIN));
+            Check.put(x, Check.MESSAGE, messageInVain());
             x.resize(Check.RANDOM, 0);
             x.feed(1, 2, 3, 4, 5);
         }, x -> x.dsaSign(0, -1));

@@ -13,6 +13,7 @@ public final class OrderTest {
         for (int set : new int[] {1, 3, 5, 7, 9, 11}) {
             slh(set);
         }
+        callsOneAfterAnother();
         Check.end("OrderTest");
     }
 
@@ -153,5 +154,86 @@ public final class OrderTest {
             x.resize(Check.PACKET, 9);
         }, x -> x.slhVerify(set, 4));
         both("slhNode", keys, x -> x.slhNode(set, 0, 1, 0, 0), Check.SHARED);
+    }
+
+    /** What a call does comes of the slots alone, whatever the calls before it were. */
+    private static void callsOneAfterAnother() {
+        Check.says("Terms", "All memory is the suite's own.");
+        Check.Making[] calls = calls();
+        for (int second = 0; second < calls.length; second++) {
+            LatticeSuite alone = new LatticeSuite();
+            calls[second].make(alone);
+            String want = Check.picture(alone);
+            for (int first = 0; first < calls.length; first++) {
+                LatticeSuite x = new LatticeSuite();
+                calls[first].make(x);
+                for (int slot = 0; slot < 8; slot++) {
+                    x.resize(slot, 0);
+                }
+                x.end(0, 0);
+                calls[second].make(x);
+                Check.due("call " + second + " behind call " + first, Check.picture(x), want);
+            }
+        }
+    }
+
+    /** Calls that use as much of what is inside an object as can be, each with its slots. */
+    private static Check.Making[] calls() {
+        byte[] great = DsaSignTest.greatSecret();
+        return new Check.Making[] {
+            x -> digestOf(x, 13, 200), x -> digestOf(x, 14, 129), x -> digestOf(x, 2, 5), x -> digestOf(x, 4, 120),
+            x -> digestOf(x, 10, 300), x -> digestOf(x, 11, 700), x -> digestOf(x, 15, 90), x -> digestOf(x, 16, 77),
+            OrderTest::kemOfAll, OrderTest::dsaOfAll, x -> {
+                x.resize(Check.RANDOM, 32);
+                x.dsaKeys(1);
+            }, x -> {
+                Check.put(x, Check.SECRET, great);
+                Check.put(x, Check.MESSAGE, DsaSignTest.messageInVain());
+                Check.fails("a signature in vain", Check.ARITHMETIC, () -> x.dsaSign(0, -1));
+            }, OrderTest::slhOfAll, x -> slhOfAny(x, 3, 35664, 24), x -> slhOfAny(x, 11, 49856, 32), x -> {
+                Check.put(x, Check.SECRET, Check.some(5, 128));
+                x.slhNode(5, 16, 77, 1, 3);
+            },
+        };
+    }
+
+    private static void digestOf(LatticeSuite x, int kind, int n) {
+        Check.put(x, Check.RANDOM, Check.some(kind, n));
+        Check.put(x, Check.MESSAGE, Check.some(n, n));
+        x.digest(kind, n);
+    }
+
+    private static void kemOfAll(LatticeSuite x) {
+        for (int set = 2; set >= 0; set--) {
+            x.resize(Check.RANDOM, 64);
+            x.kemKeys(set);
+            x.resize(Check.RANDOM, 32);
+            x.kemWrap(set);
+            x.alter(Check.PACKET, 5, set);
+            x.kemOpen(set);
+        }
+    }
+
+    private static void dsaOfAll(LatticeSuite x) {
+        x.resize(Check.RANDOM, 32);
+        for (int set = 2; set >= 0; set--) {
+            x.dsaKeys(set);
+            x.dsaSign(set, 1 + set);
+            x.dsaVerify(set, 1 + set);
+        }
+    }
+
+    private static void slhOfAll(LatticeSuite x) {
+        x.resize(Check.RANDOM, 48);
+        x.slhKeys(7);
+        x.resize(Check.RANDOM, 0);
+        x.slhSign(7, 12);
+        x.slhVerify(7, 12);
+    }
+
+    private static void slhOfAny(LatticeSuite x, int set, int size, int n) {
+        Check.putMany(x, Check.PACKET, 4, size);
+        Check.put(x, Check.PUBLIC, Check.some(6, 2 * n));
+        x.slhVerify(set, 2);
     }
 }

@@ -22,7 +22,7 @@ public final class SentencesTest {
 
     public static void main(String[] args) throws IOException {
         Map<String, List<String>> quotes = quotes();
-        for (int promise = 1; promise <= 21; promise++) {
+        for (int promise = 1; promise <= 21 && Check.hasDocument(); promise++) {
             String heading = "Promise " + promise;
             String left = Check.section(heading).replaceAll("`[^`]*`:?", " ");
             List<String> all = quotes.getOrDefault(heading, new ArrayList<>());
