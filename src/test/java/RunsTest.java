@@ -9,9 +9,10 @@ import java.util.Map;
 
 /**
  * Runs of calls with their answers, from src/test/runs. Those in openssl.txt come of keys, ciphertexts and
- * signatures that OpenSSL 3.5.7 made, but for the numbers of tries, which it does not tell. The others come of a
- * program of the same author as the class, written from the document, too, but in Python, with most hash
- * functions from its library, each transform as the sum that the document tells, and each tree by recursion.
+ * signatures that OpenSSL 3.5.7 made, and those in bouncycastle.txt of signatures of hashes that Bouncy Castle
+ * 1.86.2 made, but for the numbers of tries, which neither tells. The others come of a program of the same author
+ * as the class, written from the document, too, but in Python, with most hash functions from its library, each
+ * transform as the sum that the document tells, and each tree by recursion.
  */
 public final class RunsTest {
     private static final int MOST_CALLS = 512;
