@@ -173,7 +173,7 @@ public final class DsaTest {
     }
 
     private void contexts() {
-        Check.says("Terms", "how 0: 0 | length of CONTEXT | CONTEXT | MESSAGE; how 1 .. 12:"
+        Check.says("Terms", "SIGNED x: how 0: 0 | length of CONTEXT | CONTEXT | MESSAGE; how 1 .. 12:"
                 + " 1 | length of CONTEXT | CONTEXT | 6, 9, 96, 134, 72, 1, 101, 3, 4, 2, how | h(MESSAGE)");
         for (int n : new int[] {0, 1, 127, 128, 254, 255}) {
             signs(0, Check.some(n, n), Check.some(1, 30), new byte[0]);

@@ -4,6 +4,8 @@ import java.lang.reflect.Field;
 import java.lang.reflect.Method;
 import java.lang.reflect.Modifier;
 import java.util.TreeSet;
+import java.util.regex.Matcher;
+import java.util.regex.Pattern;
 
 /** The public face, and the room: an object is made once, and calls make nothing. */
 public final class FaceTest {
@@ -54,6 +56,9 @@ public final class FaceTest {
             want.add(line);
         }
         Check.due("the methods", got, want);
+        if (Check.hasDocument()) {
+            Check.due("the methods that the document has", got, inDocument());
+        }
         for (Field field : it.getDeclaredFields()) {
             Check.holds(field.getName() + " is private", Modifier.isPrivate(field.getModifiers()));
         }
@@ -66,6 +71,19 @@ public final class FaceTest {
             Check.holds(inside.getName() + " is no part of the face",
                     !Modifier.isPublic(inside.getModifiers()) && !Modifier.isProtected(inside.getModifiers()));
         }
+    }
+
+    /** The methods below 'The public face', in the form of textOf. */
+    private static TreeSet<String> inDocument() {
+        TreeSet<String> answer = new TreeSet<>();
+        Matcher line = Pattern.compile("public (\\w+) (\\w+)\\(([^)]*)\\)(?: throws ([^;]*))?;")
+                .matcher(Check.section("The public face"));
+        while (line.find()) {
+            String types = line.group(3).replaceAll("(\\w+) \\w+", "$1").replace(" ", "");
+            String thrown = line.group(4) == null ? "" : " " + line.group(4).replace(",", "");
+            answer.add(line.group(1) + " " + line.group(2) + "(" + types + ")" + thrown);
+        }
+        return answer;
     }
 
     private static String textOf(Method method) {

@@ -14,6 +14,7 @@ public final class OrderTest {
             slh(set);
         }
         callsOneAfterAnother();
+        asManyCallsAsThereMayBe();
         Check.end("OrderTest");
     }
 
@@ -175,6 +176,35 @@ public final class OrderTest {
                 Check.due("call " + second + " behind call " + first, Check.picture(x), want);
             }
         }
+    }
+
+    /** 36 times the same 14 calls, and eight more, on one object: all answers are those of the first time. */
+    private static void asManyCallsAsThereMayBe() {
+        Check.says("What it is", "An object is used for at most 512 calls after it has been made");
+        LatticeSuite x = new LatticeSuite();
+        String first = "";
+        for (int calls = 0; calls + 14 <= 512; calls += 14) {
+            String got = fourteen(x);
+            first = calls == 0 ? got : first;
+            Check.due("calls " + calls + " and on", got, first);
+        }
+        Check.put(x, Check.MESSAGE, Check.some(1, 40));
+        Check.due("call 508", x.digest(8, 0), 32);
+        byte[] want = Plain.hash(8, Check.some(1, 40));
+        for (int i = 0; i < 32; i += 8) {
+            Check.bytes("call " + (509 + i / 8), Plain.be(x.word(Check.SHARED, i), 8), Plain.part(want, i, 8));
+        }
+    }
+
+    private static String fourteen(LatticeSuite x) {
+        StringBuilder all = new StringBuilder();
+        x.resize(Check.RANDOM, 0);
+        x.resize(Check.RANDOM, 64);
+        all.append(x.kemKeys(0)).append(' ').append(x.resize(Check.RANDOM, 32)).append(' ').append(x.kemWrap(0));
+        all.append(' ').append(x.kemOpen(0)).append(' ').append(x.word(Check.SHARED, 24)).append(' ');
+        all.append(x.dsaKeys(0)).append(' ').append(x.dsaSign(0, 1)).append(' ').append(x.dsaVerify(0, 1));
+        all.append(' ').append(x.word(Check.SHARED, 0)).append(' ').append(x.feed(1, 2, 3, 4, 5)).append(' ');
+        return all.append(x.end(Check.SPARE, 20)).append(' ').append(x.same(Check.SPARE, Check.SHARED)).toString();
     }
 
     /** Calls that use as much of what is inside an object as can be, each with its slots. */
